@@ -48,14 +48,20 @@ public final class MuseumNights {
     private static final int ROOM_IN_ORDER = 100;
     private static final int FIRST_FAULT = -100;
 
-    private final Museum now = new Museum();
-    private final Museum kept = new Museum();
-    private final Museum foretold = new Museum();
-    private final History history = new History();
-    private final Text text = new Text();
+    private final Museum now;
+    private final Museum kept;
+    /** For alarmsIn alone: the minutes that are foretold pass in it. */
+    private final Museum foretold;
+    private final History history;
+    private final Text text;
     private boolean hasKept;
 
     public MuseumNights() {
+        now = new Museum();
+        kept = new Museum();
+        foretold = new Museum();
+        history = new History();
+        text = new Text();
         hasKept = false;
     }
 
@@ -1247,7 +1253,7 @@ public final class MuseumNights {
         }
 
         int orderOf(int guard, int place) {
-            if (place < 0 || place >= orderCount(guard)) {
+            if (!has(guard) || place < 0 || place >= orderCounts[guard]) {
                 return NONE;
             }
             return orders[guard * ORDER_LIMIT + place];

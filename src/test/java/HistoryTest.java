@@ -9,6 +9,8 @@ public final class HistoryTest {
         keep();
         restore();
         stateIsEverything();
+        nothingIsLeftBehind();
+        staysThatGoOn();
         Check.end();
     }
 
@@ -158,52 +160,128 @@ public final class HistoryTest {
         Check.due("25: alarms of the snapshot", x.count(7), 0);
     }
 
-    /** A full night is taken back and brought back, with all that is told of it. */
-    private static void stateIsEverything() {
-        MuseumNights x = new MuseumNights();
-        x.addRoom(0, 2);
-        x.addDoor(0, 1, 1, -1);
-        x.addGuard();
-        x.addWork(2, 1, 0);
-        x.keep();
-        x.exclude(0, 1, true);
-        x.openZone(0);
-        x.takeKey(0, 4);
-        x.go(0, 1, 3);
-        x.pass(5);
-        x.clearAlarm(0, 0);
-        x.takeAway(0);
-        long busy = sum(x);
-        x.restore();
-        Check.due("25: exclusions", x.zone(0, 1), 0);
-        Check.due("25: open zones", x.count(10), 0);
-        Check.due("25: keys", x.holder(4), Check.NONE);
-        Check.due("25: orders", x.guard(0, 4), 0);
-        Check.due("25: uses", x.door(0, 4), 0);
-        Check.due("25: stays", x.count(12), 0);
-        Check.due("25: arrivals", x.guard(0, 7), 0);
-        Check.due("25: work", x.work(0, 3), 0);
-        Check.due("25: watched minutes", x.room(1, 5), 0);
-        x.undo();
-        Check.due("23: all is there again", sum(x), busy);
-        Check.due("23: the watched minutes, too", x.gap(1, 0, 5), 1);
+    private interface Acts {
+        void on(MuseumNights x);
     }
 
-    private static long sum(MuseumNights x) {
-        long sum = 0;
-        for (int what = 0; what <= 13; what++) {
-            sum = 31 * sum + x.count(what);
+    /** Goes one way, keeps it, goes back and another way: the snapshot and undo know both of them. */
+    private static void twoWays(String name, Acts base, Acts one, int actsOfOne, Acts other) {
+        MuseumNights x = new MuseumNights();
+        base.on(x);
+        int[] atBase = Told.all(x);
+        one.on(x);
+        int[] atOne = Told.all(x);
+        x.keep();
+        Told.same("24: keep changes nothing of " + name, x, atOne);
+        for (int act = 0; act < actsOfOne; act++) {
+            x.undo();
         }
-        for (int what = 0; what <= 8; what++) {
-            sum = 31 * sum + x.room(1, what);
-            sum = 31 * sum + x.door(0, Math.min(what, 4));
-            sum = 31 * sum + x.zone(0, Math.min(what, 4));
-            sum = 31 * sum + x.guard(0, Math.min(what, 7));
-            sum = 31 * sum + x.work(0, Math.min(what, 4));
-            sum = 31 * sum + x.alarm(0, Math.min(what, 4));
-            sum = 31 * sum + x.stay(0, Math.min(what, 3));
-            sum = 31 * sum + x.holder(Math.min(what, 7));
+        Told.same("23: undo of " + name, x, atBase);
+        other.on(x);
+        int[] atOther = Told.all(x);
+        x.restore();
+        Told.same("25: restore of " + name, x, atOne);
+        x.undo();
+        Told.same("23: undo of restore of " + name, x, atOther);
+        x.restore();
+        Told.same("25: restore of " + name + " again", x, atOne);
+    }
+
+    private static void stateIsEverything() {
+        Acts none = x -> { };
+        twoWays("the house", none,
+            x -> { x.addRoom(2, 7); x.addDoor(0, 1, 2, 3); x.exclude(0, 1, true); x.openZone(0); }, 4,
+            x -> { x.addRoom(4, 9); x.addDoor(1, 0, 5, -1); x.exclude(2, 3, true); x.openZone(2); });
+        twoWays("walking guards", HistoryTest::furnish,
+            x -> { x.go(0, 1, 5); x.go(0, 2, 6); x.go(1, 2, 7); x.pass(1); }, 4,
+            x -> { x.go(0, 1, 0); x.go(1, 1, 9); x.pass(2); });
+        twoWays("standing guards", HistoryTest::furnish,
+            x -> { x.go(0, 1, 9); x.go(1, 1, 8); x.pass(2); x.pass(4); }, 4,
+            x -> { x.pass(3); x.go(0, 1, 1); x.go(0, 0, 1); x.pass(9); });
+        twoWays("halts", HistoryTest::furnish,
+            x -> { x.go(0, 0, 5); x.go(1, 0, 6); x.pass(1); }, 3,
+            x -> { x.go(1, 1, 9); x.pass(2); x.stop(1); });
+        twoWays("keys", HistoryTest::furnish,
+            x -> { x.takeKey(0, 1); x.takeKey(0, 3); x.takeKey(1, 2); }, 3,
+            x -> { x.takeKey(1, 1); x.takeKey(1, 3); x.go(1, 1, 0); x.pass(2); });
+        twoWays("works", HistoryTest::furnish,
+            x -> { x.addWork(2, 1, 2); x.addWork(1, 2, 9); x.takeAway(1); x.pass(4); }, 4,
+            x -> { x.addWork(0, 2, 8); x.addWork(2, 2, 0); x.pass(7); x.addWork(1, 1, 3); });
+        twoWays("alarms", HistoryTest::furnish,
+            x -> { x.go(0, 1, 0); x.pass(3); x.clearAlarm(0, 0); x.pass(3); }, 4,
+            x -> { x.setBound(2, 5); x.addWork(2, 2, 0); x.pass(9); });
+        twoWays("lost alarms", HistoryTest::furnishWorks,
+            x -> { x.pass(30); x.pass(10); }, 2,
+            x -> { x.go(0, 1, 1); x.pass(60); });
+        twoWays("nights", HistoryTest::furnish,
+            x -> { x.pass(30); x.nextNight(); x.go(0, 1, 3); x.pass(20); }, 4,
+            x -> { x.go(0, 1, 3); x.pass(20); x.nextNight(); x.nextNight(); });
+    }
+
+    private static void furnish(MuseumNights x) {
+        x.addRoom(0, 3);
+        x.addRoom(1, 0);
+        x.addDoor(0, 1, 2, -1);
+        x.addDoor(1, 2, 3, 3);
+        x.addGuard();
+        x.addGuard();
+    }
+
+    /** Each time the guard comes and goes, ten works are troubled. */
+    private static void furnishWorks(MuseumNights x) {
+        furnish(x);
+        for (int work = 0; work < 10; work++) {
+            x.addWork(1, 1, 0);
         }
-        return sum;
+        for (int turn = 0; turn < 6; turn++) {
+            x.go(0, 1, 1);
+            x.go(0, 0, 1);
+        }
+    }
+
+    /** What undo and restore take away leaves nothing behind for what comes next under its number. */
+    private static void nothingIsLeftBehind() {
+        MuseumNights x = new MuseumNights();
+        x.addRoom(0, 0);
+        x.addDoor(0, 1, 1, -1);
+        x.addGuard();
+        x.keep();
+        x.addRoom(0, 0);
+        x.addDoor(1, 2, 1, -1);
+        x.addWork(2, 2, 0);
+        x.go(0, 1, 0);
+        x.go(0, 2, 0);
+        x.pass(2);
+        Check.due("27: used", x.door(1, 4), 1);
+        Check.due("32: troubled", x.work(0, 3), 1);
+        x.pass(1);
+        x.restore();
+        x.addRoom(0, 0);
+        for (int what = 2; what <= 5; what++) {
+            Check.due("2: a new room has " + what, x.room(2, what), 0);
+        }
+        x.addDoor(1, 2, 1, -1);
+        Check.due("3: a new door was not used", x.door(1, 4), 0);
+        x.addWork(2, 1, 9);
+        Check.due("14: a new work is fine", x.work(0, 3), 0);
+        Check.due("14: a new work has no alarms", x.work(0, 4), 0);
+    }
+
+    private static void staysThatGoOn() {
+        MuseumNights x = new MuseumNights();
+        furnish(x);
+        x.openZone(0);
+        x.go(0, 1, 1);
+        x.pass(5);
+        x.keep();
+        x.go(0, 0, 1);
+        x.pass(9);
+        x.restore();
+        x.go(0, 0, 1);
+        x.pass(1);
+        Check.due("25: the stay that went on was from", x.stay(0, 2), 2);
+        x.undo();
+        x.pass(3);
+        Check.due("23: and so it is by undo", x.stay(0, 2), 2);
     }
 }

@@ -74,7 +74,7 @@ public final class HouseTest {
         Check.due("2: full", x.addRoom(0, 0), Check.FULL);
         Check.due("2: full, bad bound", x.addRoom(0, 241), Check.BAD_VALUE);
         Check.due("2: full, no zone", x.addRoom(6, 0), Check.UNKNOWN);
-        Check.due("2: undo", x.undo(), 3);
+        Check.due("2: full is no act", x.undo(), 3);
         Check.due("2: room 11 is gone", x.room(11, 0), Check.UNKNOWN);
         Check.due("2: room 11 again", x.addRoom(4, 1), 11);
         Check.due("2: new zone of 11", x.room(11, 0), 4);
@@ -138,6 +138,8 @@ public final class HouseTest {
         Check.due("3: full, the same room", x.addDoor(1, 1, 1, -1), Check.BAD_VALUE);
         Check.due("3: doors", x.count(3), 20);
         Check.due("3: last door", x.door(19, 0) * 100 + x.door(19, 1), 604);
+        Check.due("3: full is no act", x.undo(), 3);
+        Check.due("3: so the last door is gone", x.count(3), 19);
     }
 
     private static void setBound() {

@@ -197,6 +197,8 @@ public final class TimeTest {
         Check.due("18: no more", x.alarm(40, 0), Check.UNKNOWN);
         Check.due("18: a lost one counts for its work", x.work(9, 4), 4);
         Check.due("18: alarms that are open", x.room(1, 8), 40);
+        x.nextNight();
+        Check.due("19: none is lost", x.count(9), 0);
     }
 
     private static void nextNight() {

@@ -15,7 +15,9 @@ public final class ToldTest {
         alarm();
         stay();
         staysOfOneMinute();
+        manyStays();
         gap();
+        gapByMinutes();
         way();
         wayByKeys();
         firstDue();
@@ -271,6 +273,39 @@ public final class ToldTest {
         dueStay(x, 3, 1, 0, 0, 0);
     }
 
+    /** As many stays as a night can hold: each of four guards ends one in each minute. */
+    private static void manyStays() {
+        MuseumNights x = new MuseumNights();
+        x.addRoom(0, 0);
+        x.addDoor(0, 1, 1, -1);
+        for (int guard = 0; guard < 4; guard++) {
+            x.addGuard();
+        }
+        x.openZone(0);
+        Check.typeAll(x, "1,0,1,0,1,0,1,0,1,0,1,0");
+        x.keep();
+        for (int round = 0; round < 60; round++) {
+            for (int guard = 0; guard < 4; guard++) {
+                x.readOrders(guard);
+            }
+            x.pass(12);
+        }
+        Check.due("34: stays", x.count(12), 2880);
+        Check.due("39: minute", x.count(0), 720);
+        for (int back = 0; back < 2880; back += 7) {
+            int minute = 719 - back / 4;
+            dueStay(x, back, 3 - back % 4, minute % 2, minute, minute);
+        }
+        Check.due("34: no more", x.stay(2880, 0), Check.NONE);
+        Check.due("27: uses", x.door(0, 4), 2880);
+        Check.due("25: restore", x.restore(), 0);
+        Check.due("34: none", x.count(12), 0);
+        Check.due("23: undo", x.undo(), 3);
+        Check.due("34: all of them again", x.count(12), 2880);
+        dueStay(x, 2879, 0, 0, 0, 0);
+        dueStay(x, 0, 3, 1, 719, 719);
+    }
+
     private static void gap() {
         MuseumNights x = museum(1);
         x.openZone(0);
@@ -297,6 +332,19 @@ public final class ToldTest {
         Check.passMany(x, 700);
         Check.due("35: the whole night", x.gap(2, 0, 720), 720);
         Check.due("35: behind it", x.gap(2, 0, 721), Check.BAD_VALUE);
+    }
+
+    private static void gapByMinutes() {
+        MuseumNights x = museum(1);
+        x.pass(1);
+        x.go(0, 1, 0);
+        x.pass(4);
+        int[] of0 = {0, 1, 1, 1, 1};
+        int[] of1 = {1, 1, 1, 0, 0};
+        for (int minute = 0; minute < 5; minute++) {
+            Check.due("35: guard room in " + minute, x.gap(0, minute, minute + 1), of0[minute]);
+            Check.due("35: room 1 in " + minute, x.gap(1, minute, minute + 1), of1[minute]);
+        }
     }
 
     private static void way() {

@@ -44,6 +44,9 @@ public final class WorksTest {
         }
         Check.due("14: full", x.addWork(0, 1, 0), Check.FULL);
         Check.due("14: full, bad", x.addWork(3, 1, 0), Check.BAD_VALUE);
+        x.undo();
+        Check.due("14: full is no act", x.count(5), 9);
+        Check.due("14: the last one again", x.addWork(2, 2, 8), 9);
         x.takeAway(4);
         Check.due("14: those taken away count", x.addWork(0, 1, 0), Check.FULL);
         x.nextNight();
