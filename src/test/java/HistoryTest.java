@@ -249,12 +249,13 @@ public final class HistoryTest {
         x.addRoom(0, 0);
         x.addDoor(1, 2, 1, -1);
         x.addWork(2, 2, 0);
+        x.addWork(1, 2, 0);
         x.go(0, 1, 0);
         x.go(0, 2, 0);
-        x.pass(2);
+        x.pass(3);
         Check.due("27: used", x.door(1, 4), 1);
-        Check.due("32: troubled", x.work(0, 3), 1);
-        x.pass(1);
+        Check.due("32: there was an alarm by the first", x.work(0, 4), 1);
+        Check.due("32: the second is troubled", x.work(1, 3), 1);
         x.restore();
         x.addRoom(0, 0);
         for (int what = 2; what <= 5; what++) {
@@ -262,9 +263,11 @@ public final class HistoryTest {
         }
         x.addDoor(1, 2, 1, -1);
         Check.due("3: a new door was not used", x.door(1, 4), 0);
-        x.addWork(2, 1, 9);
-        Check.due("14: a new work is fine", x.work(0, 3), 0);
-        Check.due("14: a new work has no alarms", x.work(0, 4), 0);
+        for (int work = 0; work < 2; work++) {
+            x.addWork(2, 1, 9);
+            Check.due("14: a new work is fine", x.work(work, 3), 0);
+            Check.due("14: a new work has no alarms", x.work(work, 4), 0);
+        }
     }
 
     private static void staysThatGoOn() {

@@ -121,6 +121,11 @@ public final class TextsTest {
         Check.due("22: room 12", x.readOrders(0), Check.UNKNOWN);
         Check.typeAll(x, "99+99");
         Check.due("22: room 99", x.readOrders(0), Check.UNKNOWN);
+        Check.typeAll(x, "1,99,99");
+        Check.due("22: room 99 behind the first", x.readOrders(0), Check.UNKNOWN);
+        Check.typeAll(x, "1");
+        Check.due("22: which is forgotten by the next reading", x.readOrders(0), 1);
+        x.undo();
         Check.typeAll(x, "1,1,1,1,1,1,1,1,1,1,1,1,1,12");
         Check.due("22: too many, and room 12", x.readOrders(0), Check.UNKNOWN);
         Check.typeAll(x, "1,1,1,1,1,1,1,1,1,1,1,1,1,11");
