@@ -160,31 +160,22 @@ public final class HistoryTest {
         Check.due("25: alarms of the snapshot", x.count(7), 0);
     }
 
-    private interface Acts {
-        void on(MuseumNights x);
-    }
-
     /** Goes one way, keeps it, goes back and another way: the snapshot and undo know both of them. */
     private static void twoWays(String name, Acts base, Acts one, int actsOfOne, Acts other) {
-        MuseumNights x = new MuseumNights();
-        base.on(x);
-        int[] atBase = Told.all(x);
-        one.on(x);
-        int[] atOne = Told.all(x);
-        x.keep();
-        Told.same("24: keep changes nothing of " + name, x, atOne);
-        for (int act = 0; act < actsOfOne; act++) {
-            x.undo();
-        }
-        Told.same("23: undo of " + name, x, atBase);
-        other.on(x);
-        int[] atOther = Told.all(x);
-        x.restore();
-        Told.same("25: restore of " + name, x, atOne);
-        x.undo();
-        Told.same("23: undo of restore of " + name, x, atOther);
-        x.restore();
-        Told.same("25: restore of " + name + " again", x, atOne);
+        Acts atOne = base.then(one);
+        Acts kept = atOne.then(MuseumNights::keep);
+        Told.sameState("24: keep changes nothing of " + name, kept, atOne);
+        Acts back = kept.then(x -> {
+            for (int act = 0; act < actsOfOne; act++) {
+                x.undo();
+            }
+        });
+        Told.sameState("23: undo of " + name, back, base);
+        Acts restored = back.then(other).then(MuseumNights::restore);
+        Told.sameState("25: restore of " + name, restored, atOne);
+        Acts undone = restored.then(MuseumNights::undo);
+        Told.sameState("23: undo of restore of " + name, undone, base.then(other));
+        Told.sameState("25: restore of " + name + " again", undone.then(MuseumNights::restore), atOne);
     }
 
     private static void stateIsEverything() {

@@ -1,62 +1,99 @@
-import java.util.Arrays;
+import java.util.ArrayList;
+import java.util.List;
 
-/** All that a museum tells of its state: not the text, the history and the snapshot. */
+/**
+ * All that a museum tells. No object is asked more than 512 calls may ask: the questions are put in
+ * parts, each of them to a museum that is made anew by the same acts.
+ */
 final class Told {
-    private int[] answers = new int[64];
-    private int size = 0;
+    private static final int PART = 150;
+    private static final int LONGEST_LOOK_BACK = 12;
+
+    private static final List<String> NAMES = new ArrayList<>();
+    private static final List<Call> QUESTIONS = new ArrayList<>();
+    /** How many of the questions are about the state: the others are about the history and the text. */
+    private static final int ABOUT_STATE;
+
+    static {
+        askLists();
+        askMinutes();
+        ABOUT_STATE = QUESTIONS.size();
+        add("count(14)", x -> x.count(14));
+        add("count(15)", x -> x.count(15));
+    }
 
     private Told() {
     }
 
-    static int[] all(MuseumNights x) {
-        Told told = new Told();
-        told.ask(x);
-        return Arrays.copyOf(told.answers, told.size);
+    private interface Question {
+        int of(MuseumNights x, int number, int what);
     }
 
-    static void same(String what, MuseumNights x, int[] want) {
-        Check.holds(what, Arrays.equals(all(x), want));
+    private static void add(String name, Call question) {
+        NAMES.add(name);
+        QUESTIONS.add(question);
     }
 
-    private void add(int answer) {
-        if (size == answers.length) {
-            answers = Arrays.copyOf(answers, 2 * size);
+    private static void addAll(String name, int numbers, int whats, Question question) {
+        for (int number = 0; number < numbers; number++) {
+            for (int what = 0; what < whats; what++) {
+                int n = number;
+                int w = what;
+                add(name + "(" + n + ", " + w + ")", x -> question.of(x, n, w));
+            }
         }
-        answers[size] = answer;
-        size++;
     }
 
-    private void ask(MuseumNights x) {
-        for (int what = 0; what <= 13; what++) {
-            add(x.count(what));
-        }
-        for (int what = 0; what <= 8; what++) {
-            for (int number = 0; number < 40; number++) {
-                add(x.room(number, what));
-                add(x.door(number, what));
-                add(x.zone(number, what));
-                add(x.guard(number, what));
-                add(x.work(number, what));
-                add(x.alarm(number, what));
-                add(x.orderAt(what, number));
-                add(x.holder(number));
+    private static void askLists() {
+        addAll("count of", 1, 14, (x, none, what) -> x.count(what));
+        addAll("room", 12, 9, MuseumNights::room);
+        addAll("door", 20, 5, MuseumNights::door);
+        addAll("zone", 6, 5, MuseumNights::zone);
+        addAll("guard", 4, 8, MuseumNights::guard);
+        addAll("orderAt", 4, 12, MuseumNights::orderAt);
+        addAll("holder", 8, 1, (x, key, none) -> x.holder(key));
+        addAll("work", 10, 5, MuseumNights::work);
+        addAll("alarm", 40, 5, MuseumNights::alarm);
+        addAll("stay", LONGEST_LOOK_BACK, 4, MuseumNights::stay);
+        addAll("way", 4, 12, MuseumNights::way);
+    }
+
+    private static void askMinutes() {
+        addAll("first half: gap", 12, 1, (x, room, none) -> x.gap(room, 0, x.count(0) / 2));
+        addAll("second half: gap", 12, 1, (x, room, none) -> x.gap(room, x.count(0) / 2, x.count(0)));
+        addAll("last minute: gap", 12, 1, (x, room, none) -> x.gap(room, x.count(0) - 1, x.count(0)));
+        add("firstDue()", MuseumNights::firstDue);
+        add("alarmsIn(1)", x -> x.alarmsIn(1));
+        add("alarmsIn(20)", x -> x.alarmsIn(20));
+    }
+
+    private static int[] answers(Acts made, int questions) {
+        int[] answers = new int[questions];
+        for (int first = 0; first < questions; first += PART) {
+            MuseumNights x = new MuseumNights();
+            made.on(x);
+            for (int i = first; i < questions && i < first + PART; i++) {
+                answers[i] = QUESTIONS.get(i).on(x);
             }
         }
-        for (int back = 0; back < x.count(12); back++) {
-            for (int what = 0; what <= 3; what++) {
-                add(x.stay(back, what));
-            }
+        return answers;
+    }
+
+    /** Both museums tell the same state; their histories and texts may differ. */
+    static void sameState(String what, Acts got, Acts want) {
+        same(what, got, want, ABOUT_STATE);
+    }
+
+    /** Both museums tell the same state, and as many states in the history and signs in the text. */
+    static void same(String what, Acts got, Acts want) {
+        same(what, got, want, QUESTIONS.size());
+    }
+
+    private static void same(String what, Acts got, Acts want, int questions) {
+        int[] told = answers(got, questions);
+        int[] due = answers(want, questions);
+        for (int i = 0; i < questions; i++) {
+            Check.due(what + ": " + NAMES.get(i), told[i], due[i]);
         }
-        for (int room = 0; room < x.count(2); room++) {
-            for (int minute = 0; minute < x.count(0); minute++) {
-                add(x.gap(room, minute, minute + 1));
-            }
-            for (int guard = 0; guard < x.count(4); guard++) {
-                add(x.way(guard, room));
-            }
-        }
-        add(x.firstDue());
-        add(x.alarmsIn(1));
-        add(x.alarmsIn(30));
     }
 }
