@@ -33,19 +33,9 @@ final class Check {
         }
     }
 
-    /** Lets many minutes pass, 60 at a time, and answers the alarms in them. */
-    static int passMany(MuseumNights museum, int minutes) {
-        int alarms = 0;
-        for (int left = minutes; left > 0; left -= 60) {
-            alarms += museum.pass(Math.min(left, 60));
-        }
-        return alarms;
-    }
-
+    /** Types these signs in place of the text that was. */
     static void typeAll(MuseumNights museum, String signs) {
         museum.clearText();
-        for (int i = 0; i < signs.length(); i++) {
-            museum.type(signs.charAt(i));
-        }
+        Museums.type(museum, signs);
     }
 }

@@ -13,9 +13,10 @@ abstract class Edges {
     /** The number for what the document says outside of its promises. */
     static final int TERMS = 0;
 
-    /** Far from every range; each is a small number again where bits of it are lost or counted around. */
+    /** Outside of ranges: where bits of them are lost each is a small number again, and some stand for none. */
     private static final int[] FAR = {
-        LEAST, LEAST + 1, -65536, -256, -32, 32, 33, 256, 257, 65536, 65537, 1 << 30, GREATEST
+        LEAST, LEAST + 1, -65536, -256, -32, -9, NONE - 1, NONE, NOT_POSSIBLE, FULL, BAD_VALUE, -1,
+        32, 33, 256, 257, 65536, 65537, 1 << 30, GREATEST
     };
     private static final int HISTORY_LIMIT = 4;
 
@@ -54,6 +55,11 @@ abstract class Edges {
         Check.due(begin(test), call.on(made(before)), want);
     }
 
+    /** Both museums tell the same state; their histories, snapshots and texts may differ. */
+    final void sameState(String test, Acts got, Acts want) {
+        Told.sameState(begin(test), got, want);
+    }
+
     /** The answer of an act, which records the state that was before it and leaves text and snapshot. */
     final void act(String test, Acts before, Call call, int want) {
         String name = begin(test);
@@ -67,9 +73,10 @@ abstract class Edges {
         Check.due(name + ": undo", x.undo(), statesThen - 1);
         Acts then = before.then(y -> call.on(y));
         for (int back = 0; back < statesThen; back++) {
-            Told.sameState(name + ": " + back + " states back", then.then(undo(back + 1)), before.then(undo(back)));
+            Acts undone = then.then(Museums.undo(back + 1));
+            Told.sameState(name + ": " + back + " states back", undone, before.then(Museums.undo(back)));
         }
-        sameSnapshotAndText(name, then.then(undo(1)), before);
+        sameSnapshotAndText(name, then.then(Museums.undo(1)), before);
     }
 
     private static void sameSnapshotAndText(String name, Acts got, Acts want) {
@@ -88,14 +95,6 @@ abstract class Edges {
         Check.due(name + ": text", Math.min(x.readOrders(0), 0), Math.min(y.readOrders(0), 0));
         Check.due(name + ": first order of the text", x.orderAt(0, 0), y.orderAt(0, 0));
         Check.due(name + ": length of the text", x.clearText(), y.clearText());
-    }
-
-    private static Acts undo(int times) {
-        return x -> {
-            for (int time = 0; time < times; time++) {
-                x.undo();
-            }
-        };
     }
 
     /** The answer of a question, behind which nothing is another thing than before. */
@@ -117,7 +116,8 @@ abstract class Edges {
         Told.same(name + ": nothing changed", then, before);
         int states = made(before).count(14);
         for (int back = 1; back <= states; back++) {
-            Told.same(name + ": history, " + back + " back", then.then(undo(back)), before.then(undo(back)));
+            Acts undo = Museums.undo(back);
+            Told.same(name + ": history, " + back + " back", then.then(undo), before.then(undo));
         }
         Acts later = y -> y.pass(11);
         Told.same(name + ": and later", then.then(later), before.then(later));

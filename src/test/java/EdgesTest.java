@@ -7,8 +7,9 @@ public final class EdgesTest {
 
     public static void main(String[] args) {
         Edges[] parts = {
-            new TermsEdges(), new MinuteEdges(), new HouseEdges(), new GuardsEdges(), new WorksEdges(),
-            new TimeEdges(), new TextsEdges(), new HistoryEdges(), new ToldEdges(), new WorkedOutEdges()
+            new TermsEdges(), new MinuteEdges(), new StateEdges(), new HouseEdges(), new GuardsEdges(),
+            new WorksEdges(), new TimeEdges(), new TextsEdges(), new HistoryEdges(), new ToldEdges(),
+            new WorkedOutEdges()
         };
         for (Edges part : parts) {
             part.run();

@@ -49,7 +49,24 @@ final class GuardsEdges extends Edges {
         says("Adds a guard. This is an act.");
         act("in a new museum", Museums.NEW, x -> x.addGuard(), 0);
         act("during a night", NIGHT, x -> x.addGuard(), 3);
-        tellRow("the guard", NIGHT.then(x -> x.addGuard()), (x, what) -> x.guard(3, what), 0, NONE, NONE, 0, 0, 0, 0, 0);
+        tellRow("the guard", NIGHT.then(x -> x.addGuard()),
+            (x, what) -> x.guard(3, what), 0, NONE, NONE, 0, 0, 0, 0, 0);
+        Acts gone = Museums.row(0).then(x -> {
+            x.keep();
+            x.addGuard();
+            x.go(0, 0, 0);
+            x.pass(1);
+            x.takeKey(0, 3);
+            x.go(0, 1, 9);
+            x.go(0, 2, 9);
+            x.go(0, 1, 9);
+            x.pass(12);
+            x.restore();
+        });
+        tellRow("the guard in place of one that is not there any more", gone.then(x -> x.addGuard()),
+            (x, what) -> x.guard(0, what), 0, NONE, NONE, 0, 0, 0, 0, 0);
+        tell("its stay begins now", gone.then(x -> x.pass(5)).then(x -> x.addGuard()).then(x -> x.go(0, 1, 0))
+            .then(x -> x.pass(1)), x -> x.stay(0, 2), 5);
         says("Returns the guard's number;");
         act("the first", Museums.NEW, x -> x.addGuard(), 0);
         act("the last", Museums.guards(3), x -> x.addGuard(), 3);
@@ -287,15 +304,16 @@ final class GuardsEdges extends Edges {
 
     private void stop() {
         promise(13);
-        says("Drops all orders of a guard, who also has no minutes left to stay then; "
-            + "a walk goes on, and the stay of its order counts when it ends. This is an act.");
+        says("Drops all orders of a guard, who also has no minutes left to stay then; a walk goes on, and the stay "
+            + "of its order counts when it ends. This is an act.");
         Acts stays = PAIR.then(x -> x.go(0, 1, 5)).then(x -> x.go(0, 0, 1)).then(x -> x.pass(3));
         act("while standing", stays, x -> x.stop(0), 1);
         tell("no orders then", stays.then(x -> x.stop(0)), x -> x.guard(0, 4), 0);
         tell("no order in the first place", stays.then(x -> x.stop(0)), x -> x.orderAt(0, 0), NONE);
         tell("no minutes left to stay", stays.then(x -> x.stop(0)), x -> x.guard(0, 3), 0);
         tell("it stays where it is", stays.then(x -> x.stop(0)).then(x -> x.pass(9)), x -> x.guard(0, 0), 1);
-        tell("a new order is followed at once", stays.then(x -> x.stop(0)).then(x -> x.go(0, 2, 0)).then(x -> x.pass(1)),
+        tell("a new order is followed at once", stays.then(x -> x.stop(0)).then(x -> x.go(0, 2, 0))
+            .then(x -> x.pass(1)),
             x -> x.guard(0, 0), 2);
         act("while walking", NIGHT, x -> x.stop(1), 1);
         tell("the walk goes on", NIGHT.then(x -> x.stop(1)), x -> x.guard(1, 2), 2);

@@ -12,64 +12,52 @@ final class HistoryEdges extends Edges {
         restoreReturns();
     }
 
-    private static Acts undo(int times) {
-        return x -> {
-            for (int time = 0; time < times; time++) {
-                x.undo();
-            }
-        };
-    }
-
-    /** The answer 0, when both museums tell the same; the text and the snapshot may differ. */
-    private void same(String test, Acts got, Acts want) {
-        answer(test, got, x -> {
-            Told.sameState(test, got, want);
-            return 0;
-        }, 0);
-    }
-
     private void undo() {
         promise(23);
         says("Removes and restores the latest state of the history.");
         Acts five = Museums.rooms(5);
-        same("one back", five.then(undo(1)), Museums.rooms(4));
-        same("two back", five.then(undo(2)), Museums.rooms(3));
-        same("four back", five.then(undo(4)), Museums.rooms(1));
-        same("five back are four back", five.then(undo(5)), Museums.rooms(1));
-        same("nine around: four back", Museums.rooms(9).then(undo(4)), Museums.rooms(5));
-        answer("it is removed", five.then(undo(1)), x -> x.count(14), 3);
-        answer("it is no act", five.then(undo(3)), x -> x.undo(), 0);
-        same("undo of what came behind an undo", five.then(undo(2)).then(x -> x.addRoom(5, 9)).then(undo(1)),
+        sameState("one back", five.then(Museums.undo(1)), Museums.rooms(4));
+        sameState("two back", five.then(Museums.undo(2)), Museums.rooms(3));
+        sameState("four back", five.then(Museums.undo(4)), Museums.rooms(1));
+        sameState("five back are four back", five.then(Museums.undo(5)), Museums.rooms(1));
+        sameState("nine around: four back", Museums.rooms(9).then(Museums.undo(4)), Museums.rooms(5));
+        answer("it is removed", five.then(Museums.undo(1)), x -> x.count(14), 3);
+        answer("it is no act", five.then(Museums.undo(3)), x -> x.undo(), 0);
+        sameState("undo of what came behind an undo", five.then(Museums.undo(2)).then(x -> x.addRoom(5, 9))
+            .then(Museums.undo(1)),
             Museums.rooms(3));
-        same("and of what came before it", five.then(undo(2)).then(x -> x.addRoom(5, 9)).then(undo(2)),
+        sameState("and of what came before it", five.then(Museums.undo(2)).then(x -> x.addRoom(5, 9))
+            .then(Museums.undo(2)),
             Museums.rooms(2));
-        same("a night", NIGHT.then(x -> x.pass(60)).then(undo(1)), NIGHT);
-        same("a night and what follows", NIGHT.then(x -> x.pass(60)).then(undo(1)).then(x -> x.pass(30)),
+        sameState("a night", NIGHT.then(x -> x.pass(60)).then(Museums.undo(1)), NIGHT);
+        sameState("a night and what follows", NIGHT.then(x -> x.pass(60)).then(Museums.undo(1)).then(x -> x.pass(30)),
             NIGHT.then(x -> x.pass(30)));
-        same("an earlier state is not changed by what follows", NIGHT.then(x -> {
+        sameState("an earlier state is not changed by what follows", NIGHT.then(x -> {
             x.pass(30);
             x.go(2, 0, 0);
             x.addWork(1, 1, 0);
             x.takeAway(0);
-        }).then(undo(4)), NIGHT);
-        answer("the text is no part of the state", NEW.then(x -> x.addRoom(0, 0)).then(Museums.typed("1,2")).then(undo(1)),
+        }).then(Museums.undo(4)), NIGHT);
+        answer("the text is no part of the state", NEW.then(x -> x.addRoom(0, 0)).then(Museums.typed("1,2"))
+            .then(Museums.undo(1)),
             x -> x.clearText(), 3);
-        answer("nor is the snapshot", NEW.then(x -> x.pass(3)).then(x -> x.keep()).then(undo(1)), x -> x.restore(), 3);
+        answer("nor is the snapshot", NEW.then(x -> x.pass(3)).then(x -> x.keep()).then(Museums.undo(1)),
+            x -> x.restore(), 3);
     }
 
     private void undoReturns() {
         Acts five = Museums.rooms(5);
         says("Returns the number of states that are left;");
         answer("3", five, x -> x.undo(), 3);
-        answer("2", five.then(undo(1)), x -> x.undo(), 2);
-        answer("1", five.then(undo(2)), x -> x.undo(), 1);
-        answer("0", five.then(undo(3)), x -> x.undo(), 0);
+        answer("2", five.then(Museums.undo(1)), x -> x.undo(), 2);
+        answer("1", five.then(Museums.undo(2)), x -> x.undo(), 1);
+        answer("0", five.then(Museums.undo(3)), x -> x.undo(), 0);
         answer("0 of the only one", Museums.rooms(1), x -> x.undo(), 0);
-        answer("1 behind an act", five.then(undo(3)).then(x -> x.addGuard()), x -> x.undo(), 1);
+        answer("1 behind an act", five.then(Museums.undo(3)).then(x -> x.addGuard()), x -> x.undo(), 1);
         says("NONE if the history is empty.");
         refuse("at first", NEW, x -> x.undo(), NONE);
-        refuse("all are removed", five.then(undo(4)), x -> x.undo(), NONE);
-        refuse("the only one is removed", Museums.rooms(1).then(undo(1)), x -> x.undo(), NONE);
+        refuse("all are removed", five.then(Museums.undo(4)), x -> x.undo(), NONE);
+        refuse("the only one is removed", Museums.rooms(1).then(Museums.undo(1)), x -> x.undo(), NONE);
         refuse("keep and texts record none", NEW.then(x -> x.keep()).then(Museums.typed("1")), x -> x.undo(), NONE);
         refuse("errors record none", NEW.then(x -> x.addRoom(6, 0)).then(x -> x.pass(0)), x -> x.undo(), NONE);
         refuse("NONE records none", NEW.then(x -> x.closeZone(0)).then(x -> x.restore()), x -> x.undo(), NONE);
@@ -78,11 +66,12 @@ final class HistoryEdges extends Edges {
     private void keep() {
         promise(24);
         says("Takes a snapshot of the state, in place of the one that was.");
-        same("the state stays", NIGHT.then(x -> x.keep()), NIGHT);
-        same("the snapshot is the state", NIGHT.then(x -> x.keep()).then(x -> x.pass(30)).then(x -> x.restore()), NIGHT);
-        same("the one that was is gone", NIGHT.then(x -> x.keep()).then(x -> x.pass(30)).then(x -> x.keep())
+        sameState("the state stays", NIGHT.then(x -> x.keep()), NIGHT);
+        sameState("the snapshot is the state", NIGHT.then(x -> x.keep()).then(x -> x.pass(30))
+            .then(x -> x.restore()), NIGHT);
+        sameState("the one that was is gone", NIGHT.then(x -> x.keep()).then(x -> x.pass(30)).then(x -> x.keep())
             .then(x -> x.pass(5)).then(x -> x.restore()), NIGHT.then(x -> x.pass(30)));
-        same("with fewer rooms than the one that was", NEW.then(x -> {
+        sameState("with fewer rooms than the one that was", NEW.then(x -> {
             NIGHT.on(x);
             x.keep();
             x.undo();
@@ -90,7 +79,7 @@ final class HistoryEdges extends Edges {
             x.keep();
             x.pass(30);
             x.restore();
-        }), NIGHT.then(undo(2)));
+        }), NIGHT.then(Museums.undo(2)));
         answer("is no act", Museums.rooms(2).then(x -> x.keep()), x -> x.count(14), 2);
         answer("is no act in a new museum", NEW.then(x -> x.keep()), x -> x.count(14), 0);
         answer("the text stays", NIGHT.then(x -> x.keep()), x -> x.clearText(), 3);
@@ -108,18 +97,19 @@ final class HistoryEdges extends Edges {
         act("behind a snapshot", kept, x -> x.restore(), 7);
         act("right behind it", NIGHT.then(x -> x.keep()), x -> x.restore(), 7);
         act("in a new museum", NEW.then(x -> x.keep()), x -> x.restore(), 0);
-        same("the state", kept.then(x -> x.restore()), NIGHT);
-        same("what follows is as it was", kept.then(x -> x.restore()).then(x -> x.pass(30)), kept);
-        same("the snapshot stays", kept.then(x -> x.restore()).then(x -> x.pass(60)).then(x -> x.restore()), NIGHT);
-        same("it is not changed by what follows", kept.then(x -> x.restore()).then(x -> {
+        sameState("the state", kept.then(x -> x.restore()), NIGHT);
+        sameState("what follows is as it was", kept.then(x -> x.restore()).then(x -> x.pass(30)), kept);
+        sameState("the snapshot stays", kept.then(x -> x.restore()).then(x -> x.pass(60))
+            .then(x -> x.restore()), NIGHT);
+        sameState("it is not changed by what follows", kept.then(x -> x.restore()).then(x -> {
             x.addRoom(0, 0);
             x.takeAway(1);
             x.stop(2);
             x.nextNight();
             x.pass(9);
         }).then(x -> x.restore()), NIGHT);
-        same("undo goes back", kept.then(x -> x.restore()).then(undo(1)), kept);
-        same("to a later night than that of the snapshot", NEW.then(x -> x.keep()).then(x -> {
+        sameState("undo goes back", kept.then(x -> x.restore()).then(Museums.undo(1)), kept);
+        sameState("to a later night than that of the snapshot", NEW.then(x -> x.keep()).then(x -> {
             x.addRoom(0, 0);
             x.pass(60);
             x.nextNight();
@@ -139,6 +129,6 @@ final class HistoryEdges extends Edges {
         says("NONE if there is no snapshot.");
         refuse("at first", NEW, x -> x.restore(), NONE);
         refuse("behind acts", Museums.row(2).then(x -> x.pass(3)), x -> x.restore(), NONE);
-        refuse("behind undo", Museums.row(2).then(undo(2)), x -> x.restore(), NONE);
+        refuse("behind undo", Museums.row(2).then(Museums.undo(2)), x -> x.restore(), NONE);
     }
 }

@@ -2,6 +2,18 @@
 final class HouseEdges extends Edges {
     private static final Acts NEW = Museums.NEW;
     private static final Acts NIGHT = Museums.NIGHT;
+    /** A room and a door were there, were watched and used, and are not there any more. */
+    private static final Acts UNDONE = x -> {
+        x.addGuard();
+        x.keep();
+        x.addRoom(0, 5);
+        x.addDoor(0, 1, 1, -1);
+        x.go(0, 1, 3);
+        x.pass(9);
+        x.go(0, 0, 0);
+        x.pass(9);
+        x.restore();
+    };
 
     @Override
     void run() {
@@ -54,6 +66,8 @@ final class HouseEdges extends Edges {
         act("in a new museum", NEW, x -> x.addRoom(3, 7), 1);
         act("during a night", NIGHT, x -> x.addRoom(3, 7), 4);
         tellRow("the room", NIGHT.then(x -> x.addRoom(3, 7)), (x, what) -> x.room(4, what), 3, 7, 0, 0, 0, 0, 0, 0, 0);
+        tellRow("the room in place of one that is not there any more", UNDONE.then(x -> x.addRoom(3, 7)),
+            (x, what) -> x.room(1, what), 3, 7, 0, 0, 0, 0, 0, 0, 0);
         says("`zone`: 0 to 5");
         act("zone 0", NEW, x -> x.addRoom(0, 9), 1);
         act("zone 5", NEW, x -> x.addRoom(5, 9), 1);
@@ -97,6 +111,9 @@ final class HouseEdges extends Edges {
         act("in a new house", three, x -> x.addDoor(0, 1, 3, 2), 0);
         act("during a night", NIGHT, x -> x.addDoor(2, 3, 3, 2), 3);
         tellRow("the door", NIGHT.then(x -> x.addDoor(3, 2, 4, 6)), (x, what) -> x.door(3, what), 3, 2, 4, 6, 0);
+        tellRow("the door in place of one that is not there any more",
+            UNDONE.then(x -> x.addRoom(0, 0)).then(x -> x.addDoor(1, 0, 4, 6)),
+            (x, what) -> x.door(0, what), 1, 0, 4, 6, 0);
         says("`room`: a room");
         act("the first", three, x -> x.addDoor(0, 1, 1, -1), 0);
         act("the last", three, x -> x.addDoor(2, 1, 1, -1), 0);
@@ -308,7 +325,8 @@ final class HouseEdges extends Edges {
         act("not excluded any more", barred.then(x -> x.exclude(0, 5, false)), x -> x.openZone(0), 2);
         act("closed again", barred.then(x -> x.closeZone(5)), x -> x.openZone(0), 1);
         act("one that excludes one that is closed", barred.then(x -> x.exclude(1, 2, true)), x -> x.openZone(1), 2);
-        refuse("one of two that it excludes", barred.then(x -> x.exclude(0, 1, true)), x -> x.openZone(0), NOT_POSSIBLE);
+        refuse("one of two that it excludes", barred.then(x -> x.exclude(0, 1, true)),
+            x -> x.openZone(0), NOT_POSSIBLE);
         says("NONE if it is open already.");
         refuse("open already", barred, x -> x.openZone(5), NONE);
         act("closed again and so not open", barred.then(x -> x.closeZone(5)), x -> x.openZone(5), 1);

@@ -60,7 +60,8 @@ final class MinuteEdges extends Edges {
     }
 
     private void settingOff() {
-        says("1. Each guard, by number, who stands, has 0 minutes left to stay, and has an order, sets off by the first order,");
+        says("1. Each guard, by number, who stands, has 0 minutes left to stay, and has an order, sets off by the "
+            + "first order,");
         Acts three = Museums.row(3).then(x -> {
             x.go(2, 1, 0);
             x.go(0, 1, 0);
@@ -105,15 +106,19 @@ final class MinuteEdges extends Edges {
             x.go(1, 2, 33);
             x.pass(1);
         }), (x, place) -> x.orderAt(1, place), 233, NONE);
-        tell("so twelve can be given again", twelve.then(x -> x.pass(1)).then(x -> x.go(0, 0, 0)), x -> x.guard(0, 4), 12);
+        tell("so twelve can be given again", twelve.then(x -> x.pass(1)).then(x -> x.go(0, 0, 0)),
+            x -> x.guard(0, 4), 12);
     }
 
     private void doorsAndKeys() {
-        says("if there is a door between the guard's room and that of the order, and it has no key or the guard has its key, "
-            + "the guard walks through it to that room; otherwise all orders of the guard are dropped, and this is a halt.");
+        says("if there is a door between the guard's room and that of the order, and it has no key or the guard "
+            + "has its key, the guard walks through it to that room; otherwise all orders of the guard are "
+            + "dropped, and this is a halt.");
         tell("no key", ROW.then(x -> x.go(0, 1, 0)).then(x -> x.pass(1)), x -> x.guard(0, 0), 1);
-        tell("the other way", ROW.then(x -> x.go(0, 1, 0)).then(x -> x.go(0, 0, 0)).then(x -> x.pass(2)), x -> x.guard(0, 7), 2);
-        Acts sent = LOCKED.then(x -> x.go(0, 1, 0)).then(x -> x.go(0, 2, 0)).then(x -> x.go(0, 1, 0)).then(x -> x.go(0, 0, 0));
+        tell("the other way", ROW.then(x -> x.go(0, 1, 0)).then(x -> x.go(0, 0, 0)).then(x -> x.pass(2)),
+            x -> x.guard(0, 7), 2);
+        Acts sent = LOCKED.then(x -> x.go(0, 1, 0)).then(x -> x.go(0, 2, 0)).then(x -> x.go(0, 1, 0))
+            .then(x -> x.go(0, 0, 0));
         tell("its key", sent.then(x -> x.takeKey(0, 5)).then(x -> x.pass(2)), x -> x.guard(0, 0), 2);
         tell("its key among three", sent.then(x -> {
             x.takeKey(0, 0);
@@ -125,7 +130,8 @@ final class MinuteEdges extends Edges {
             .then(x -> x.pass(1)), x -> x.guard(0, 0), 2);
         tell("the key 7", ROW.then(x -> x.addDoor(0, 2, 1, 7)).then(x -> x.takeKey(0, 7)).then(x -> x.go(0, 2, 0))
             .then(x -> x.pass(1)), x -> x.guard(0, 0), 2);
-        halt("without the key 0", ROW.then(x -> x.addDoor(0, 2, 1, 0)).then(x -> x.go(0, 2, 0)).then(x -> x.pass(1)), 0);
+        halt("without the key 0", ROW.then(x -> x.addDoor(0, 2, 1, 0)).then(x -> x.go(0, 2, 0))
+            .then(x -> x.pass(1)), 0);
         halt("the key is in the cupboard", sent.then(x -> x.pass(2)), 1);
         halt("another guard has the key", sent.then(x -> x.takeKey(1, 5)).then(x -> x.pass(2)), 1);
         halt("other keys", sent.then(x -> x.takeKey(0, 4)).then(x -> x.takeKey(0, 6)).then(x -> x.pass(2)), 1);
@@ -137,7 +143,8 @@ final class MinuteEdges extends Edges {
             x.pass(1);
         }), 0);
         halt("no door", ROW.then(x -> x.go(0, 2, 0)).then(x -> x.go(0, 1, 0)).then(x -> x.pass(1)), 0);
-        halt("a room without any door", ROW.then(x -> x.addRoom(0, 0)).then(x -> x.go(0, 3, 0)).then(x -> x.pass(1)), 0);
+        halt("a room without any door", ROW.then(x -> x.addRoom(0, 0)).then(x -> x.go(0, 3, 0))
+            .then(x -> x.pass(1)), 0);
         tell("the key counts when the guard sets off, not when the order is given", LOCKED.then(x -> {
             x.addDoor(0, 2, 1, 4);
             x.go(0, 2, 0);
@@ -169,7 +176,8 @@ final class MinuteEdges extends Edges {
         tell("another guard's orders are not dropped", both, x -> x.orderAt(1, 0), 207);
         tell("another guard walks", both, x -> x.guard(1, 0), 1);
         tell("nor is it the other one's halt", both, x -> x.guard(1, 6), 0);
-        tell("a door is not used by a halt", LOCKED.then(x -> x.go(0, 1, 0)).then(x -> x.go(0, 2, 0)).then(x -> x.pass(2)),
+        tell("a door is not used by a halt", LOCKED.then(x -> x.go(0, 1, 0)).then(x -> x.go(0, 2, 0))
+            .then(x -> x.pass(2)),
             x -> x.door(1, 4), 0);
         tell("twelve orders are one halt", ROW.then(x -> {
             for (int order = 0; order < 12; order++) {
@@ -177,11 +185,13 @@ final class MinuteEdges extends Edges {
             }
             x.pass(12);
         }), x -> x.guard(0, 6), 1);
-        tell("a new order is followed in the next minute", both.then(x -> x.go(0, 1, 0)).then(x -> x.pass(1)), x -> x.guard(0, 0), 1);
+        tell("a new order is followed in the next minute", both.then(x -> x.go(0, 1, 0)).then(x -> x.pass(1)),
+            x -> x.guard(0, 0), 1);
         says("(An order for the room in which the guard stands is a halt, too.)");
         halt("the guard room", ROW.then(x -> x.go(0, 0, 9)).then(x -> x.go(0, 1, 0)).then(x -> x.pass(1)), 0);
         halt("another room", ROW.then(x -> x.go(0, 1, 0)).then(x -> x.go(0, 1, 9)).then(x -> x.pass(2)), 1);
-        tell("it is watched then", ROW.then(x -> x.go(0, 1, 0)).then(x -> x.go(0, 1, 9)).then(x -> x.pass(2)), x -> x.room(1, 2), 1);
+        tell("it is watched then", ROW.then(x -> x.go(0, 1, 0)).then(x -> x.go(0, 1, 9)).then(x -> x.pass(2)),
+            x -> x.room(1, 2), 1);
         tell("it is no arrival", ROW.then(x -> x.go(0, 0, 9)).then(x -> x.pass(1)), x -> x.guard(0, 7), 0);
         tell("it gives no alarm", Museums.row(1).then(x -> {
             x.closeZone(0);
@@ -192,8 +202,8 @@ final class MinuteEdges extends Edges {
     }
 
     private void minutesToStay() {
-        says("For each guard who stood and had minutes left to stay ahead of this step these become less by 1 "
-            + "(so such a guard sets off in a later minute).");
+        says("For each guard who stood and had minutes left to stay ahead of this step these become less by 1 (so "
+            + "such a guard sets off in a later minute).");
         Acts stays = ROW.then(x -> x.go(0, 1, 2)).then(x -> x.go(0, 2, 9)).then(x -> x.pass(1));
         tell("2 at the end of the walk", stays, x -> x.guard(0, 3), 2);
         tell("1 a minute later", stays.then(x -> x.pass(1)), x -> x.guard(0, 3), 1);
@@ -205,8 +215,10 @@ final class MinuteEdges extends Edges {
         tell("they do not become less on the walk", far.then(x -> x.pass(9)), x -> x.guard(0, 3), 5);
         tell("they do without an order, too", far.then(x -> x.pass(11)), x -> x.guard(0, 3), 3);
         tell("they do not become less than 0", far.then(x -> x.pass(60)), x -> x.guard(0, 3), 0);
-        tell("99 minutes", ROW.then(x -> x.go(0, 1, 99)).then(x -> x.go(0, 0, 0)).then(Museums.pass(100)), x -> x.guard(0, 0), 1);
-        refuse("and no more", ROW.then(x -> x.addDoor(1, 0, 1, -1)).then(x -> x.addDoor(0, 2, 9, -1)).then(x -> x.go(0, 1, 99))
+        tell("99 minutes", ROW.then(x -> x.go(0, 1, 99)).then(x -> x.go(0, 0, 0)).then(Museums.pass(100)),
+            x -> x.guard(0, 0), 1);
+        refuse("and no more", ROW.then(x -> x.addDoor(1, 0, 1, -1)).then(x -> x.addDoor(0, 2, 9, -1))
+            .then(x -> x.go(0, 1, 99))
             .then(x -> x.go(0, 0, 0)).then(x -> x.go(0, 2, 0)).then(Museums.pass(102)), x -> x.guard(0, 0), NONE);
         tell("for each guard", PAIR.then(x -> x.go(0, 1, 5)).then(x -> x.go(1, 1, 7)).then(x -> x.pass(4)),
             x -> x.guard(0, 3) * 10 + x.guard(1, 3), 24);
@@ -223,7 +235,8 @@ final class MinuteEdges extends Edges {
         tell("but in the next", leaves.then(x -> x.pass(3)), x -> x.room(2, 2), 1);
         tell("two guards watch it once", PAIR.then(x -> x.pass(1)), x -> x.room(0, 2), 1);
         tell("one of two is enough", PAIR.then(x -> x.go(0, 1, 0)).then(x -> x.pass(1)), x -> x.room(0, 2), 1);
-        tell("two rooms at once", PAIR.then(x -> x.go(0, 1, 0)).then(x -> x.pass(2)), x -> x.room(0, 2) * 10 + x.room(1, 2), 21);
+        tell("two rooms at once", PAIR.then(x -> x.go(0, 1, 0)).then(x -> x.pass(2)),
+            x -> x.room(0, 2) * 10 + x.room(1, 2), 21);
         tell("the last room", Museums.rooms(11).then(Museums.guards(1)).then(x -> x.addDoor(0, 11, 1, -1))
             .then(x -> x.go(0, 11, 0)).then(x -> x.pass(3)), x -> x.room(11, 2), 2);
         tell("without guards none", Museums.row(0).then(x -> x.pass(1)), x -> x.room(0, 3), 1);
@@ -240,14 +253,16 @@ final class MinuteEdges extends Edges {
     }
 
     private void arriving() {
-        says("If they are 0 then, the guard stands in the room from the next minute on, with the stay of the order left; "
-            + "if this room is in a zone that is closed, there is an alarm for the cause 0.");
+        says("If they are 0 then, the guard stands in the room from the next minute on, with the stay of the order "
+            + "left; if this room is in a zone that is closed, there is an alarm for the cause 0.");
         Acts near = ROW.then(x -> x.go(0, 1, 4)).then(x -> x.pass(1));
         tell("stands there", near, x -> x.guard(0, 0), 1);
         tell("with the stay of the order", near, x -> x.guard(0, 3), 4);
-        tell("from the next minute on", near.then(x -> x.stop(0)).then(x -> x.go(0, 0, 0)).then(x -> x.pass(1)), x -> x.stay(0, 2), 1);
+        tell("from the next minute on", near.then(x -> x.stop(0)).then(x -> x.go(0, 0, 0)).then(x -> x.pass(1)),
+            x -> x.stay(0, 2), 1);
         tell("has arrived", near, x -> x.guard(0, 7), 1);
-        tell("the stay is that of its own order", ROW.then(x -> x.go(0, 1, 0)).then(x -> x.go(0, 2, 9)).then(x -> x.pass(1)),
+        tell("the stay is that of its own order", ROW.then(x -> x.go(0, 1, 0)).then(x -> x.go(0, 2, 9))
+            .then(x -> x.pass(1)),
             x -> x.guard(0, 3), 0);
         tell("an open zone: no alarm", near, x -> x.count(7), 0);
         Acts closed = PAIR.then(x -> x.closeZone(0)).then(x -> x.go(0, 1, 0));
@@ -256,7 +271,8 @@ final class MinuteEdges extends Edges {
         tell("its room", closed.then(x -> x.pass(1)), x -> x.alarm(0, 1), 1);
         tell("its minute", closed.then(x -> x.pass(1)), x -> x.alarm(0, 2), 0);
         answer("none while it stands there", closed.then(x -> x.pass(1)), x -> x.pass(60), 0);
-        answer("none when it leaves for an open one", closed.then(x -> x.pass(1)).then(x -> x.go(0, 2, 0)), x -> x.pass(3), 0);
+        answer("none when it leaves for an open one", closed.then(x -> x.pass(1)).then(x -> x.go(0, 2, 0)),
+            x -> x.pass(3), 0);
         answer("two guards: two alarms", closed.then(x -> x.go(1, 1, 0)), x -> x.pass(1), 2);
         answer("the guard room is in no zone", closed.then(x -> x.pass(1)).then(x -> x.go(0, 0, 0)), x -> x.pass(3), 0);
         answer("not in the minute of setting off", ROW.then(x -> x.closeZone(1)).then(x -> x.addDoor(0, 2, 2, -1))
@@ -296,14 +312,19 @@ final class MinuteEdges extends Edges {
             x.go(0, 0, 0);
             x.pass(2);
         });
-        answer("the minute in which a guard comes counts", bound.then(x -> x.pass(3)).then(x -> x.go(0, 1, 1)), x -> x.pass(1), 1);
-        answer("a guard who comes a minute before is just in time", bound.then(x -> x.pass(2)).then(x -> x.go(0, 1, 1)), x -> x.pass(60), 0);
+        answer("the minute in which a guard comes counts", bound.then(x -> x.pass(3)).then(x -> x.go(0, 1, 1)),
+            x -> x.pass(1), 1);
+        answer("a guard who comes a minute before is just in time", bound.then(x -> x.pass(2))
+            .then(x -> x.go(0, 1, 1)), x -> x.pass(60), 0);
         answer("again when it was watched between: not yet", watched, x -> x.pass(2), 0);
         answer("again when it was watched between", watched, x -> x.pass(3), 1);
-        answer("just: not by a lesser bound that was passed already", bound.then(x -> x.pass(2)).then(x -> x.setBound(1, 1)), x -> x.pass(60), 0);
+        answer("just: not by a lesser bound that was passed already", bound.then(x -> x.pass(2))
+            .then(x -> x.setBound(1, 1)), x -> x.pass(60), 0);
         answer("just: by a lesser bound", bound.then(x -> x.pass(2)).then(x -> x.setBound(1, 2)), x -> x.pass(1), 1);
-        answer("just: once more by a greater bound", bound.then(x -> x.pass(4)).then(x -> x.setBound(1, 6)), x -> x.pass(60), 1);
-        answer("a room that was added in this minute counts from now", ROW.then(x -> x.pass(9)).then(x -> x.addRoom(0, 3)), x -> x.pass(3), 0);
+        answer("just: once more by a greater bound", bound.then(x -> x.pass(4)).then(x -> x.setBound(1, 6)),
+            x -> x.pass(60), 1);
+        answer("a room that was added in this minute counts from now", ROW.then(x -> x.pass(9))
+            .then(x -> x.addRoom(0, 3)), x -> x.pass(3), 0);
         answer("and no longer", ROW.then(x -> x.pass(9)).then(x -> x.addRoom(0, 3)), x -> x.pass(4), 1);
         Acts three = Museums.rooms(2).then(x -> {
             x.addRoom(0, 1);
@@ -356,14 +377,9 @@ final class MinuteEdges extends Edges {
     }
 
     private void alarmsNoted() {
-        says("An alarm is noted with its cause, its room (that of the work for the cause 2), and the minute that passes.");
-        Acts three = ROW.then(x -> {
-            x.setBound(2, 1);
-            x.closeZone(0);
-            x.addWork(1, 1, 0);
-            x.go(0, 1, 0);
-            x.pass(2);
-        });
+        says("An alarm is noted with its cause, its room (that of the work for the cause 2), and the minute that "
+            + "passes.");
+        Acts three = Museums.ALARMS;
         tellRow("arrival", three, (x, what) -> x.alarm(0, what), 0, 1, 0, NONE, NONE);
         tellRow("bound", three, (x, what) -> x.alarm(1, what), 1, 2, 1, NONE, NONE);
         tellRow("work", three, (x, what) -> x.alarm(2, what), 2, 1, 1, NONE, NONE);
@@ -378,8 +394,9 @@ final class MinuteEdges extends Edges {
     }
 
     private void alarmsLost() {
-        says("At most 40 alarms are noted in a night, numbered from 0; those behind them are lost, and only counted.");
-        Acts forty = ToldEdges.crowded(4);
+        says("At most 40 alarms are noted in a night, numbered from 0; those behind them are lost, and only "
+            + "counted.");
+        Acts forty = Museums.crowded(4);
         Acts one = forty.then(x -> x.closeZone(0)).then(x -> x.go(0, 1, 0)).then(x -> x.pass(1));
         tell("40 are noted", forty, x -> x.count(7), 40);
         tell("none of them is lost", forty, x -> x.count(9), 0);

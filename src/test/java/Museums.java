@@ -41,6 +41,23 @@ final class Museums {
         x.go(2, 1, 3);
     };
 
+    /** Room 1 is watched in the minutes 1 to 3 and 11 to 19, the guard room in 5 to 9, room 2 never. */
+    static final Acts WATCHED = row(1).then(x -> {
+        x.go(0, 1, 3);
+        x.go(0, 0, 5);
+        x.go(0, 1, 0);
+        x.pass(20);
+    });
+
+    /** An alarm of each cause: 0 in room 1 and the minute 0, then 1 in room 2 and 2 in room 1, in the minute 1. */
+    static final Acts ALARMS = row(1).then(x -> {
+        x.setBound(2, 1);
+        x.closeZone(0);
+        x.addWork(1, 1, 0);
+        x.go(0, 1, 0);
+        x.pass(2);
+    });
+
     private Museums() {
     }
 
@@ -94,6 +111,33 @@ final class Museums {
             x.openZone(0);
             x.openZone(1);
             guards(guards).on(x);
+        };
+    }
+
+    /** Ten works in room 1, which the guard has visited so many times: each time all ten were troubled. */
+    static Acts crowded(int visits) {
+        return row(1).then(x -> {
+            for (int work = 0; work < 10; work++) {
+                x.addWork(1, 1, 0);
+            }
+            for (int time = 0; time < visits; time++) {
+                visit(x);
+            }
+        });
+    }
+
+    /** The guard goes to room 1, watches it for a minute, and comes back; answers the alarms. */
+    static int visit(MuseumNights x) {
+        x.go(0, 1, 1);
+        x.go(0, 0, 0);
+        return x.pass(3);
+    }
+
+    static Acts undo(int times) {
+        return x -> {
+            for (int time = 0; time < times; time++) {
+                x.undo();
+            }
         };
     }
 

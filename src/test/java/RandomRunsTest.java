@@ -1,17 +1,42 @@
+import java.lang.reflect.InvocationTargetException;
+import java.lang.reflect.Method;
+import java.util.ArrayList;
+import java.util.Arrays;
+import java.util.HashMap;
+import java.util.List;
+import java.util.Map;
+
 /**
- * Runs of calls drawn by a fixed rule, each made of the program and of PlainMuseum: every answer, and
- * after every call all that is told, must be the same. Wrong arguments are drawn, too.
+ * Runs of calls drawn by a fixed rule, each made of PlainMuseum and of the program: every answer, and now
+ * and then all that is told, must be the same. Wrong arguments are drawn, too. No object is used for more
+ * calls than the document allows: for what is told the run is made again with new objects.
  */
 public final class RandomRunsTest {
-    private static final int RUNS = 240;
+    private static final int RUNS = 500;
     private static final int CALLS = 512;
+    private static final int PART = 200;
+    private static final int STEPS_BETWEEN_LOOKS = 40;
     private static final int[] ODD = {
         -1, -2, -5, -6, 12, 13, 20, 40, 61, 100, 241, 721, Integer.MAX_VALUE, Integer.MIN_VALUE
     };
+    private static final Map<String, Method> PROGRAM = methods(MuseumNights.class);
+    private static final Map<String, Method> PLAIN = methods(PlainMuseum.class);
+
+    /** A call with the answer that PlainMuseum gave. */
+    private record Step(String method, Object[] arguments, int due) {
+        int on(MuseumNights x) {
+            return RandomRunsTest.call(PROGRAM.get(method), x, arguments);
+        }
+
+        void check(String name, MuseumNights x) {
+            Check.due(name + method + Arrays.toString(arguments), on(x), due);
+        }
+    }
 
     private final int run;
-    private final MuseumNights x = new MuseumNights();
     private final PlainMuseum y = new PlainMuseum();
+    private final List<Step> steps = new ArrayList<>();
+    private final List<Step> questions = new ArrayList<>();
     private long seed;
 
     private RandomRunsTest(int run) {
@@ -26,15 +51,64 @@ public final class RandomRunsTest {
         Check.end();
     }
 
+    private static Map<String, Method> methods(Class<?> type) {
+        Map<String, Method> methods = new HashMap<>();
+        for (Method method : type.getDeclaredMethods()) {
+            methods.put(method.getName(), method);
+        }
+        return methods;
+    }
+
+    private static int call(Method method, Object object, Object[] arguments) {
+        try {
+            return (int) method.invoke(object, arguments);
+        } catch (IllegalAccessException | InvocationTargetException failed) {
+            throw new IllegalStateException(method + Arrays.toString(arguments), failed);
+        }
+    }
+
     private void go() {
         build();
-        for (int call = 0; call < CALLS; call++) {
-            String name = "run " + run + ", call " + call + ": ";
-            oneCall(name);
-            if (call % 8 == 0 || run < 16) {
-                compareAll(name);
+        int nextLook = 0;
+        while (steps.size() < CALLS) {
+            drawCall();
+            if (steps.size() >= nextLook && steps.size() <= CALLS - PART) {
+                compareAll();
+                nextLook = steps.size() + STEPS_BETWEEN_LOOKS;
             }
         }
+        MuseumNights x = new MuseumNights();
+        for (int number = 0; number < CALLS; number++) {
+            steps.get(number).check("run " + run + ", call " + number + ": ", x);
+        }
+    }
+
+    private Step dueStep(String method, Object[] arguments) {
+        return new Step(method, arguments, call(PLAIN.get(method), y, arguments));
+    }
+
+    /** One more call of the run. */
+    private void step(String method, Object... arguments) {
+        steps.add(dueStep(method, arguments));
+    }
+
+    /** A question that is no call of the run: it is put to a new object behind the run's calls. */
+    private void ask(String method, Object... arguments) {
+        questions.add(dueStep(method, arguments));
+        if (questions.size() == PART) {
+            putQuestions();
+        }
+    }
+
+    private void putQuestions() {
+        MuseumNights x = new MuseumNights();
+        for (Step step : steps) {
+            step.on(x);
+        }
+        for (Step question : questions) {
+            question.check("run " + run + ", behind " + steps.size() + " calls: ", x);
+        }
+        questions.clear();
     }
 
     /** A number from 0 up to one below the bound, drawn by a fixed rule. */
@@ -48,16 +122,12 @@ public final class RandomRunsTest {
         return below(16) == 0 ? ODD[below(ODD.length)] : below(bound);
     }
 
-    private void same(String name, int got, int want) {
-        Check.due(name, got, want);
-    }
-
     private void build() {
         int rooms = 2 + below(10);
         for (int i = 0; i < rooms; i++) {
             int zone = below(6);
             int bound = below(3) == 0 ? 0 : below(30);
-            same("build", x.addRoom(zone, bound), y.addRoom(zone, bound));
+            step("addRoom", zone, bound);
         }
         int doors = rooms + below(8);
         for (int i = 0; i < doors; i++) {
@@ -65,95 +135,114 @@ public final class RandomRunsTest {
             int other = i < rooms ? below(i + 1) : below(rooms + 1);
             int minutes = below(3) == 0 ? 1 + below(9) : 1;
             int key = below(3) == 0 ? below(8) : -1;
-            same("build", x.addDoor(room, other, minutes, key), y.addDoor(room, other, minutes, key));
+            step("addDoor", room, other, minutes, key);
         }
         int guards = 1 + below(4);
         for (int i = 0; i < guards; i++) {
-            same("build", x.addGuard(), y.addGuard());
+            step("addGuard");
         }
         for (int i = 0; i < 6; i++) {
             if (below(3) > 0) {
-                same("build", x.openZone(i), y.openZone(i));
+                step("openZone", i);
             }
         }
-    }
-
-    private void oneCall(String name) {
-        int kind = below(100);
-        if (kind < 8) {
-            houseCall(name, below(7));
-        } else if (kind < 26) {
-            keyCall(name, below(3));
-        } else if (kind < 44) {
-            orderCall(name);
-        } else if (kind < 60) {
-            workCall(name, below(6));
-        } else if (kind < 82) {
-            timeCall(name);
-        } else if (kind < 92) {
-            historyCall(name, below(8));
-        } else {
-            oddQuestion(name);
+        if (run % 3 == 0) {
+            buildWorks();
         }
     }
 
-    private void houseCall(String name, int which) {
+    /** So many works that alarms can be lost. */
+    private void buildWorks() {
+        for (int i = 0; i < 9; i++) {
+            step("addWork", below(3), 1 + below(2), below(3));
+        }
+    }
+
+    private void drawCall() {
+        int kind = below(100);
+        if (kind < 8) {
+            houseCall(below(7));
+        } else if (kind < 26) {
+            keyCall(below(3));
+        } else if (kind < 44) {
+            orderCall();
+        } else if (kind < 60) {
+            workCall(below(6));
+        } else if (kind < 82) {
+            timeCall();
+        } else if (kind < 97) {
+            historyCall(below(12));
+        } else {
+            oddQuestion();
+        }
+    }
+
+    private void houseCall(int which) {
         int a = mostly(6);
         int b = mostly(12);
         int c = mostly(10);
         int d = mostly(9) - 1;
         boolean is = below(2) == 0;
         switch (which) {
-            case 0: same(name + "addRoom", x.addRoom(a, b), y.addRoom(a, b)); break;
-            case 1: same(name + "addDoor", x.addDoor(b, a, c, d), y.addDoor(b, a, c, d)); break;
-            case 2: same(name + "setBound", x.setBound(b, c), y.setBound(b, c)); break;
-            case 3: same(name + "exclude", x.exclude(a, d, is), y.exclude(a, d, is)); break;
-            case 4: same(name + "openZone", x.openZone(a), y.openZone(a)); break;
-            case 5: same(name + "closeZone", x.closeZone(a), y.closeZone(a)); break;
-            default: same(name + "addGuard", x.addGuard(), y.addGuard()); break;
+            case 0: step("addRoom", a, b); break;
+            case 1: step("addDoor", b, a, c, d); break;
+            case 2: step("setBound", b, c); break;
+            case 3: step("exclude", a, d, is); break;
+            case 4: step("openZone", a); break;
+            case 5: step("closeZone", a); break;
+            default: step("addGuard"); break;
         }
     }
 
-    private void keyCall(String name, int which) {
+    private void keyCall(int which) {
         int guard = mostly(4);
         int other = mostly(4);
         int key = mostly(8);
         switch (which) {
-            case 0: same(name + "takeKey", x.takeKey(guard, key), y.takeKey(guard, key)); break;
-            case 1: same(name + "bringKey", x.bringKey(guard, key), y.bringKey(guard, key)); break;
+            case 0: step("takeKey", guard, key); break;
+            case 1: step("bringKey", guard, key); break;
             default:
                 if (below(2) == 0) {
-                    key = Math.max(0, Integer.numberOfTrailingZeros(Math.max(0, x.guard(guard, 5))));
+                    key = Math.max(0, Integer.numberOfTrailingZeros(Math.max(0, y.guard(guard, 5))));
                 }
-                same(name + "handKey", x.handKey(guard, other, key), y.handKey(guard, other, key));
+                step("handKey", guard, other, key);
                 break;
         }
     }
 
-    /** Orders that lead along a way of doors, mostly. */
-    private String orders(int guard) {
-        int here = Math.max(x.guard(guard, 0), x.guard(guard, 1));
-        int ahead = x.guard(guard, 4);
+    /** The rooms of orders that lead along a way of doors, mostly. */
+    private List<Integer> wayOf(int guard) {
+        int here = Math.max(y.guard(guard, 0), y.guard(guard, 1));
+        int ahead = y.guard(guard, 4);
         if (ahead > 0) {
-            here = x.orderAt(guard, ahead - 1) / 100;
+            here = y.orderAt(guard, ahead - 1) / 100;
         }
-        StringBuilder text = new StringBuilder();
+        List<Integer> way = new ArrayList<>();
         int length = 1 + below(8);
         for (int i = 0; i < length; i++) {
-            int next = below(12);
-            for (int tries = 0; tries < 40; tries++) {
-                int door = below(20);
-                if (x.door(door, 0) == here && below(2) == 0) {
-                    next = x.door(door, 1);
-                    break;
-                }
-                if (x.door(door, 1) == here && below(2) == 0) {
-                    next = x.door(door, 0);
-                    break;
-                }
+            here = nextTo(here);
+            way.add(here);
+        }
+        return way;
+    }
+
+    private int nextTo(int room) {
+        for (int tries = 0; tries < 40; tries++) {
+            int door = below(20);
+            if (y.door(door, 0) == room && below(2) == 0) {
+                return y.door(door, 1);
             }
-            here = next;
-            text.append(i == 0 ? "" : ",").append(next);
+            if (y.door(door, 1) == room && below(2) == 0) {
+                return y.door(door, 0);
+            }
+        }
+        return below(12);
+    }
+
+    private String textOf(List<Integer> way) {
+        StringBuilder text = new StringBuilder();
+        for (int room : way) {
+            text.append(text.length() == 0 ? "" : ",").append(room);
             if (below(2) == 0) {
                 text.append('+').append(below(4) == 0 ? below(100) : below(6));
             }
@@ -164,139 +253,144 @@ public final class RandomRunsTest {
         return text.toString();
     }
 
-    private void orderCall(String name) {
+    private void orderCall() {
         int guard = mostly(4);
-        int which = below(8);
+        int which = below(12);
         if (which == 0) {
-            same(name + "stop", x.stop(guard), y.stop(guard));
-        } else if (which < 3) {
-            int room = mostly(12);
-            int stay = mostly(100);
-            same(name + "go", x.go(guard, room, stay), y.go(guard, room, stay));
+            step("stop", guard);
+        } else if (which == 1) {
+            step("go", guard, mostly(12), mostly(100));
+        } else if (which < 10) {
+            for (int room : wayOf(guard)) {
+                step("go", guard, room, below(3) == 0 ? below(9) : 0);
+            }
         } else {
             if (below(4) > 0) {
-                same(name + "clearText", x.clearText(), y.clearText());
+                step("clearText");
             }
-            String text = orders(guard);
+            String text = textOf(wayOf(guard));
             for (int i = 0; i < text.length(); i++) {
-                same(name + "type", x.type(text.charAt(i)), y.type(text.charAt(i)));
+                step("type", text.charAt(i));
             }
-            same(name + "readOrders", x.readOrders(guard), y.readOrders(guard));
+            step("readOrders", guard);
         }
     }
 
-    private void workCall(String name, int which) {
+    private void workCall(int which) {
         int a = mostly(10);
         int b = mostly(12);
         int c = below(2) == 0 ? mostly(100) : mostly(6);
         switch (which) {
-            case 0: same(name + "addWork", x.addWork(c % 4, b, c), y.addWork(c % 4, b, c)); break;
+            case 0: step("addWork", c % 4, b, c); break;
             case 1:
-            case 2: same(name + "moveWork", x.moveWork(a, b), y.moveWork(a, b)); break;
+            case 2: step("moveWork", a, b); break;
             case 3:
                 if (below(4) == 0) {
-                    same(name + "takeAway", x.takeAway(a), y.takeAway(a));
+                    step("takeAway", a);
                 }
                 break;
             default:
-                int alarm = mostly(Math.max(1, x.count(7)));
+                int alarm = mostly(Math.max(1, y.count(7)));
                 int guard = mostly(4);
-                same(name + "clearAlarm", x.clearAlarm(alarm, guard), y.clearAlarm(alarm, guard));
+                step("clearAlarm", alarm, guard);
                 break;
         }
     }
 
-    private void timeCall(String name) {
+    private void timeCall() {
         int which = below(40);
-        if (which == 0 || x.count(0) == 720 && which < 20) {
+        if (which == 0 || y.count(0) == 720 && which < 20) {
             for (int key = 0; key < 8 && below(2) == 0; key++) {
-                int holder = x.holder(key);
-                same(name + "bringKey", x.bringKey(holder, key), y.bringKey(holder, key));
+                int holder = y.holder(key);
+                step("bringKey", holder, key);
             }
-            same(name + "nextNight", x.nextNight(), y.nextNight());
+            step("nextNight");
         } else {
             int minutes = below(5) == 0 ? mostly(62) : 1 + mostly(8);
-            same(name + "alarmsIn", x.alarmsIn(minutes), y.alarmsIn(minutes));
-            same(name + "pass", x.pass(minutes), y.pass(minutes));
+            step("alarmsIn", minutes);
+            step("pass", minutes);
         }
     }
 
-    private void historyCall(String name, int which) {
+    private void historyCall(int which) {
         if (which < 5) {
-            same(name + "undo", x.undo(), y.undo());
-        } else if (which < 7) {
-            same(name + "keep", x.keep(), y.keep());
+            step("undo");
+        } else if (which < 8) {
+            step("keep");
+        } else if (which < 9) {
+            step("restore");
         } else {
-            same(name + "restore", x.restore(), y.restore());
+            timeCall();
         }
     }
 
-    private void oddQuestion(String name) {
+    private void oddQuestion() {
         int a = mostly(12);
         int b = mostly(20);
         int c = mostly(720);
-        same(name + "room", x.room(a, b), y.room(a, b));
-        same(name + "door", x.door(b, a), y.door(b, a));
-        same(name + "zone", x.zone(a, b), y.zone(a, b));
-        same(name + "guard", x.guard(a, b), y.guard(a, b));
-        same(name + "orderAt", x.orderAt(a, b), y.orderAt(a, b));
-        same(name + "holder", x.holder(a), y.holder(a));
-        same(name + "work", x.work(a, b), y.work(a, b));
-        same(name + "alarm", x.alarm(b, a), y.alarm(b, a));
-        same(name + "stay", x.stay(b, a), y.stay(b, a));
-        same(name + "gap", x.gap(a, b, c), y.gap(a, b, c));
-        same(name + "gap", x.gap(a, c, b), y.gap(a, c, b));
-        same(name + "way", x.way(a, b), y.way(a, b));
-        same(name + "alarmsIn", x.alarmsIn(b), y.alarmsIn(b));
-        same(name + "count", x.count(b), y.count(b));
+        step("room", a, b);
+        step("door", b, a);
+        step("zone", a, b);
+        step("guard", a, b);
+        step("orderAt", a, b);
+        step("holder", a);
+        step("work", a, b);
+        step("alarm", b, a);
+        step("stay", b, a);
+        step("gap", a, b, c);
+        step("gap", a, c, b);
+        step("way", a, b);
+        step("alarmsIn", b);
+        step("count", b);
     }
 
-    private void compareAll(String name) {
+    private void compareAll() {
         for (int what = -1; what <= 16; what++) {
-            same(name + "count " + what, x.count(what), y.count(what));
+            ask("count", what);
         }
         for (int what = -1; what <= 9; what++) {
             for (int i = -1; i <= 20; i++) {
                 if (i <= 12) {
-                    same(name + "room " + i + " " + what, x.room(i, what), y.room(i, what));
-                    same(name + "orderAt " + i + " " + what, x.orderAt(what, i), y.orderAt(what, i));
+                    ask("room", i, what);
+                    ask("orderAt", what, i);
                 }
                 if (i <= 10) {
-                    same(name + "work " + i + " " + what, x.work(i, what), y.work(i, what));
+                    ask("work", i, what);
                 }
                 if (i <= 6) {
-                    same(name + "zone " + i + " " + what, x.zone(i, what), y.zone(i, what));
-                    same(name + "guard " + i + " " + what, x.guard(i, what), y.guard(i, what));
+                    ask("zone", i, what);
+                    ask("guard", i, what);
                 }
-                same(name + "door " + i + " " + what, x.door(i, what), y.door(i, what));
+                ask("door", i, what);
             }
         }
         for (int what = -1; what <= 5; what++) {
             for (int i = -1; i <= 40; i++) {
-                same(name + "alarm " + i + " " + what, x.alarm(i, what), y.alarm(i, what));
+                ask("alarm", i, what);
             }
             for (int back = -1; back <= 5; back++) {
-                same(name + "stay " + back + " " + what, x.stay(back, what), y.stay(back, what));
+                ask("stay", back, what);
             }
-            int far = below(1 + x.count(12));
-            same(name + "stay " + far + " " + what, x.stay(far, what), y.stay(far, what));
+            int far = below(1 + y.count(12));
+            ask("stay", far, what);
         }
         for (int key = -1; key <= 8; key++) {
-            same(name + "holder " + key, x.holder(key), y.holder(key));
+            ask("holder", key);
         }
         for (int room = -1; room <= 12; room++) {
             for (int guard = -1; guard <= 4; guard++) {
-                same(name + "way " + guard + " " + room, x.way(guard, room), y.way(guard, room));
+                ask("way", guard, room);
             }
-            int minute = x.count(0);
+            int minute = y.count(0);
             int from = below(minute + 1);
             int until = from + below(minute + 2 - from);
-            same(name + "gap " + room, x.gap(room, from, until), y.gap(room, from, until));
-            same(name + "whole gap " + room, x.gap(room, 0, minute), y.gap(room, 0, minute));
+            ask("gap", room, from, until);
+            ask("gap", room, 0, minute);
         }
-        same(name + "firstDue", x.firstDue(), y.firstDue());
+        ask("firstDue");
         for (int minutes = -1; minutes <= 61; minutes += 10) {
-            same(name + "alarmsIn " + minutes, x.alarmsIn(minutes), y.alarmsIn(minutes));
+            ask("alarmsIn", minutes);
         }
+        putQuestions();
     }
 }

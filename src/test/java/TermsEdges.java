@@ -67,12 +67,15 @@ final class TermsEdges extends Edges {
         tellRow("rooms of zone", NEW, (x, zone) -> x.zone(zone, 2), 0, 0, 0, 0, 0, 0);
         tell("the bound", NEW, x -> x.room(0, 1), 0);
         answer("which no night runs out of", NEW, x -> Museums.passMany(x, 720), 0);
-        answer("an arrival in it gives no alarm", ROW.then(x -> x.go(0, 1, 0)).then(x -> x.go(0, 0, 0)), x -> x.pass(3), 0);
-        says("Each other room is in one of the zones 0 to 5, and has a bound (0 to 240 minutes; 0 means that it has none).");
+        answer("an arrival in it gives no alarm", ROW.then(x -> x.go(0, 1, 0)).then(x -> x.go(0, 0, 0)),
+            x -> x.pass(3), 0);
+        says("Each other room is in one of the zones 0 to 5, and has a bound (0 to 240 minutes; 0 means that it "
+            + "has none).");
         tellRow("zone of room", Museums.rooms(6), (x, room) -> x.room(room, 0), NONE, 0, 1, 2, 3, 4, 5);
         answer("0: no alarm in a night", Museums.rooms(11), x -> Museums.passMany(x, 720), 0);
         refuse("0: nothing is due", Museums.rooms(11), x -> x.firstDue(), NONE);
-        answer("0 that was set: no alarm", NEW.then(x -> x.addRoom(0, 5)).then(x -> x.setBound(1, 0)), x -> x.pass(60), 0);
+        answer("0 that was set: no alarm", NEW.then(x -> x.addRoom(0, 5)).then(x -> x.setBound(1, 0)),
+            x -> x.pass(60), 0);
         answer("1: none in its minute", NEW.then(x -> x.addRoom(0, 1)), x -> x.pass(1), 0);
         answer("1: in the next", NEW.then(x -> x.addRoom(0, 1)).then(x -> x.pass(1)), x -> x.pass(1), 1);
         answer("240: none in its minutes", NEW.then(x -> x.addRoom(0, 240)), x -> Museums.passMany(x, 240), 0);
@@ -80,7 +83,8 @@ final class TermsEdges extends Edges {
     }
 
     private void doors() {
-        says("There are at most 20 doors, numbered from 0, each between two rooms; there is at most one door between the same two.");
+        says("There are at most 20 doors, numbered from 0, each between two rooms; there is at most one door "
+            + "between the same two.");
         refuse("none at first", NEW, x -> x.door(0, 0), UNKNOWN);
         act("0", Museums.rooms(1), x -> x.addDoor(0, 1, 1, -1), 0);
         act("19", Museums.doors(19), x -> x.addDoor(7, 6, 1, -1), 19);
@@ -119,7 +123,8 @@ final class TermsEdges extends Edges {
             x -> x.exclude(5, 0, true), NOT_POSSIBLE);
         act("both are open when they do not any more", pair.then(x -> x.openZone(0)).then(x -> x.exclude(5, 0, false)),
             x -> x.openZone(5), 2);
-        act("nor do all that one excludes exclude one another", pair.then(x -> x.exclude(0, 4, true)).then(x -> x.openZone(4)),
+        act("nor do all that one excludes exclude one another", pair.then(x -> x.exclude(0, 4, true))
+            .then(x -> x.openZone(4)),
             x -> x.openZone(5), 2);
     }
 
@@ -146,8 +151,10 @@ final class TermsEdges extends Edges {
             x.takeKey(0, 0);
             x.takeKey(0, 4);
         }), x -> x.takeKey(0, 5), FULL);
-        refuse("a key is with one guard", Museums.guards(2).then(x -> x.takeKey(0, 7)), x -> x.takeKey(1, 7), NOT_POSSIBLE);
-        tellRow("in the cupboard, key", Museums.guards(4), (x, key) -> x.holder(key), NONE, NONE, NONE, NONE, NONE, NONE, NONE, NONE);
+        refuse("a key is with one guard", Museums.guards(2).then(x -> x.takeKey(0, 7)),
+            x -> x.takeKey(1, 7), NOT_POSSIBLE);
+        tellRow("in the cupboard, key", Museums.guards(4),
+            (x, key) -> x.holder(key), NONE, NONE, NONE, NONE, NONE, NONE, NONE, NONE);
         act("a key is in the cupboard whichever guard is there", Museums.guards(4), x -> x.takeKey(3, 7), 1);
     }
 
@@ -184,7 +191,8 @@ final class TermsEdges extends Edges {
         act("0", ROW, x -> x.addWork(0, 1, 0), 0);
         act("9", nine, x -> x.addWork(0, 1, 0), 9);
         refuse("no 10", nine.then(x -> x.addWork(0, 1, 0)), x -> x.addWork(0, 1, 0), FULL);
-        act("0 in the next night", nine.then(x -> x.addWork(0, 1, 0)).then(x -> x.nextNight()), x -> x.addWork(0, 1, 0), 0);
+        act("0 in the next night", nine.then(x -> x.addWork(0, 1, 0)).then(x -> x.nextNight()),
+            x -> x.addWork(0, 1, 0), 0);
         says("A work has a room (not the guard room), a kind and a limit (0 to 99 minutes); it is fine (at first) "
             + "or troubled, until it is taken away.");
         refuse("not the guard room", ROW, x -> x.addWork(0, 0, 0), UNKNOWN);
@@ -192,10 +200,12 @@ final class TermsEdges extends Edges {
         act("the limit 99", ROW, x -> x.addWork(2, 1, 99), 0);
         refuse("no limit -1", ROW, x -> x.addWork(2, 1, -1), BAD_VALUE);
         refuse("no limit 100", ROW, x -> x.addWork(2, 1, 100), BAD_VALUE);
-        tell("fine at first, though its room was not watched for long", ROW.then(x -> x.pass(60)).then(x -> x.addWork(2, 1, 0)),
+        tell("fine at first, though its room was not watched for long", ROW.then(x -> x.pass(60))
+            .then(x -> x.addWork(2, 1, 0)),
             x -> x.work(0, 3), 0);
         tell("troubled", ROW.then(x -> x.addWork(2, 1, 0)).then(x -> x.pass(1)), x -> x.work(0, 3), 1);
-        tell("neither when it is taken away", ROW.then(x -> x.addWork(2, 1, 0)).then(x -> x.takeAway(0)).then(x -> x.pass(9)),
+        tell("neither when it is taken away", ROW.then(x -> x.addWork(2, 1, 0)).then(x -> x.takeAway(0))
+            .then(x -> x.pass(9)),
             x -> x.work(0, 3), 2);
     }
 
@@ -212,24 +222,31 @@ final class TermsEdges extends Edges {
     }
 
     private void workKinds() {
-        says("In each minute that passes (see below) it is looked at, and is troubled then if the following holds, by its "
-            + "kind, otherwise fine: 0 the zone of its room is open, and its room is not watched in this minute; 1 its room has "
-            + "been watched for more minutes in a row than its limit; 2 its room has not been watched for more minutes in a row "
-            + "than its limit.");
+        says("In each minute that passes (see below) it is looked at, and is troubled then if the following holds, "
+            + "by its kind, otherwise fine: 0 the zone of its room is open, and its room is not watched in this "
+            + "minute; 1 its room has been watched for more minutes in a row than its limit; 2 its room has not "
+            + "been watched for more minutes in a row than its limit.");
         tell("0: open and not watched", aloneWork(0, 0).then(x -> x.pass(1)), x -> x.work(0, 3), 1);
         tell("0: open and watched", watchedWork(0, 0).then(x -> x.pass(2)), x -> x.work(0, 3), 0);
-        tell("0: open, and the guard comes in this minute", watchedWork(0, 0).then(x -> x.pass(1)), x -> x.work(0, 3), 1);
-        tell("0: closed and not watched", aloneWork(0, 0).then(x -> x.closeZone(0)).then(x -> x.pass(1)), x -> x.work(0, 3), 0);
-        tell("0: closed and watched", watchedWork(0, 0).then(x -> x.closeZone(0)).then(x -> x.pass(2)), x -> x.work(0, 3), 0);
-        tell("0: closed when it was troubled", aloneWork(0, 0).then(x -> x.pass(1)).then(x -> x.closeZone(0)), x -> x.work(0, 3), 1);
-        tell("0: and a minute passed", aloneWork(0, 0).then(x -> x.pass(1)).then(x -> x.closeZone(0)).then(x -> x.pass(1)),
+        tell("0: open, and the guard comes in this minute", watchedWork(0, 0).then(x -> x.pass(1)),
+            x -> x.work(0, 3), 1);
+        tell("0: closed and not watched", aloneWork(0, 0).then(x -> x.closeZone(0)).then(x -> x.pass(1)),
             x -> x.work(0, 3), 0);
-        tell("0: another zone is open", ROW.then(x -> x.closeZone(1)).then(x -> x.addWork(0, 2, 0)).then(x -> x.pass(1)),
+        tell("0: closed and watched", watchedWork(0, 0).then(x -> x.closeZone(0)).then(x -> x.pass(2)),
+            x -> x.work(0, 3), 0);
+        tell("0: closed when it was troubled", aloneWork(0, 0).then(x -> x.pass(1)).then(x -> x.closeZone(0)),
+            x -> x.work(0, 3), 1);
+        tell("0: and a minute passed", aloneWork(0, 0).then(x -> x.pass(1)).then(x -> x.closeZone(0))
+            .then(x -> x.pass(1)),
+            x -> x.work(0, 3), 0);
+        tell("0: another zone is open", ROW.then(x -> x.closeZone(1)).then(x -> x.addWork(0, 2, 0))
+            .then(x -> x.pass(1)),
             x -> x.work(0, 3), 0);
         for (int limit : new int[] {0, 1, 58}) {
             tell("1: watched for " + limit, watchedWork(1, limit).then(x -> x.pass(1 + limit)), x -> x.work(0, 3), 0);
             tell("1: one more", watchedWork(1, limit).then(x -> x.pass(2 + limit)), x -> x.work(0, 3), 1);
-            tell("2: not watched for " + limit, aloneWork(2, limit).then(x -> Museums.passMany(x, limit)), x -> x.work(0, 3), 0);
+            tell("2: not watched for " + limit, aloneWork(2, limit).then(x -> Museums.passMany(x, limit)),
+                x -> x.work(0, 3), 0);
             tell("2: one more", aloneWork(2, limit).then(x -> x.pass(1 + limit)), x -> x.work(0, 3), 1);
         }
         tell("1: watched for 99", watchedWork(1, 99).then(Museums.pass(100)), x -> x.work(0, 3), 0);
@@ -251,7 +268,8 @@ final class TermsEdges extends Edges {
             x.pass(1);
         }), x -> x.work(0, 3), 0);
         tell("2: watched in this minute", watchedWork(2, 0).then(x -> x.pass(2)), x -> x.work(0, 3), 0);
-        tell("2: the zone is closed", aloneWork(2, 0).then(x -> x.closeZone(0)).then(x -> x.pass(1)), x -> x.work(0, 3), 1);
+        tell("2: the zone is closed", aloneWork(2, 0).then(x -> x.closeZone(0)).then(x -> x.pass(1)),
+            x -> x.work(0, 3), 1);
         says("(The limit plays no part for the kind 0. The minute that passes counts.)");
         tell("0 with the limit 99", aloneWork(0, 99).then(x -> x.pass(1)), x -> x.work(0, 3), 1);
         tell("1 with the limit 0 in the first minute", watchedWork(1, 0).then(x -> x.pass(2)), x -> x.work(0, 3), 1);
@@ -261,10 +279,10 @@ final class TermsEdges extends Edges {
     private void gaps() {
         says("A gap of a room is a number of minutes in a row in which it was not watched.");
         tell("none", ROW.then(x -> x.pass(9)), x -> x.gap(0, 0, 9), 0);
-        tell("two that are not in a row", ToldEdges.WATCHED, x -> x.gap(1, 0, 8), 4);
+        tell("two that are not in a row", Museums.WATCHED, x -> x.gap(1, 0, 8), 4);
         tell("all the night", ROW.then(Museums.pass(720)), x -> x.gap(2, 0, 720), 720);
-        says("(A guard who comes to a room with a stay of 0 and an order behind it sets off in the very next minute, "
-            + "and so does not watch it.)");
+        says("(A guard who comes to a room with a stay of 0 and an order behind it sets off in the very next "
+            + "minute, and so does not watch it.)");
         Acts through = ROW.then(x -> {
             x.go(0, 1, 0);
             x.go(0, 2, 0);
@@ -303,7 +321,8 @@ final class TermsEdges extends Edges {
         act("'" + text + "'", typed(text), x -> x.readOrders(0), count);
         for (int place = 0; place < count; place++) {
             int p = place;
-            tell("'" + text + "', order " + place, typed(text).then(x -> x.readOrders(0)), x -> x.orderAt(0, p), orders[p]);
+            tell("'" + text + "', order " + place, typed(text).then(x -> x.readOrders(0)),
+                x -> x.orderAt(0, p), orders[p]);
         }
     }
 
@@ -324,8 +343,8 @@ final class TermsEdges extends Edges {
         fault("1 2", 1);
         fault("1;2", 1);
         fault("1, 2", 2);
-        says("An order is a room (one or two digits), and perhaps \"+\" and a stay (one or two digits); "
-            + "no number has a zero in front (unless it is the single digit 0).");
+        says("An order is a room (one or two digits), and perhaps \"+\" and a stay (one or two digits); no number "
+            + "has a zero in front (unless it is the single digit 0).");
         orders("0", 0);
         orders("9", 900);
         orders("10", 1000);
@@ -399,31 +418,25 @@ final class TermsEdges extends Edges {
         fault("1".repeat(60), 2);
     }
 
-    private static Acts undo(int times) {
-        return x -> {
-            for (int time = 0; time < times; time++) {
-                x.undo();
-            }
-        };
-    }
-
     private void history() {
-        says("A history of at most 4 states is kept; when one more is recorded, the oldest one is dropped; "
-            + "undo() removes and restores the latest one.");
+        says("A history of at most 4 states is kept; when one more is recorded, the oldest one is dropped; undo() "
+            + "removes and restores the latest one.");
         for (int acts = 0; acts <= 9; acts++) {
             tell(acts + " acts", Museums.rooms(acts), x -> x.count(14), Math.min(acts, 4));
             int oldest = Math.max(acts - 4, 0);
-            answer(acts + " acts, as far back as can be", Museums.rooms(acts).then(undo(5)), x -> x.count(2), 1 + oldest);
+            answer(acts + " acts, as far back as can be", Museums.rooms(acts).then(Museums.undo(5)),
+                x -> x.count(2), 1 + oldest);
         }
-        answer("the latest one", Museums.rooms(5).then(undo(1)), x -> x.count(2), 5);
-        answer("it is removed", Museums.rooms(5).then(undo(1)), x -> x.count(14), 3);
-        answer("nothing is dropped for one that was removed", Museums.rooms(5).then(undo(2)).then(Museums.guards(2)).then(undo(4)),
+        answer("the latest one", Museums.rooms(5).then(Museums.undo(1)), x -> x.count(2), 5);
+        answer("it is removed", Museums.rooms(5).then(Museums.undo(1)), x -> x.count(14), 3);
+        answer("nothing is dropped for one that was removed", Museums.rooms(5).then(Museums.undo(2))
+            .then(Museums.guards(2)).then(Museums.undo(4)),
             x -> x.count(2) * 10 + x.count(4), 20);
     }
 
     private void acts() {
-        says("Each call of a method that is described as an act, and returns no error and not NONE, "
-            + "records the state that was before it.");
+        says("Each call of a method that is described as an act, and returns no error and not NONE, records the "
+            + "state that was before it.");
         // those that answer 0, which is neither an error nor NONE
         act("setBound", Museums.rooms(1), x -> x.setBound(1, 5), 0);
         act("addDoor", Museums.rooms(1), x -> x.addDoor(0, 1, 1, -1), 0);
@@ -449,7 +462,8 @@ final class TermsEdges extends Edges {
     }
 
     private void snapshot() {
-        says("There is one snapshot, empty at first. A state is everything but the text, the history and the snapshot.");
+        says("There is one snapshot, empty at first. A state is everything but the text, the history and the "
+            + "snapshot.");
         refuse("empty at first", ROW, x -> x.restore(), NONE);
         answer("just one", NEW.then(x -> x.keep()).then(x -> x.pass(1)).then(x -> x.keep()).then(x -> x.restore()),
             x -> x.restore(), 1);
@@ -461,11 +475,12 @@ final class TermsEdges extends Edges {
             x.restore();
             x.undo();
         }), x -> x.count(15), 2);
-        answer("the history is in none", Museums.rooms(3).then(x -> x.keep()).then(undo(3)).then(x -> x.restore()),
+        answer("the history is in none", Museums.rooms(3).then(x -> x.keep()).then(Museums.undo(3))
+            .then(x -> x.restore()),
             x -> x.count(14), 1);
         answer("the nights are in it", NEW.then(x -> x.nextNight()).then(x -> x.keep()).then(x -> x.nextNight())
             .then(x -> x.restore()), x -> x.count(1), 1);
-        answer("the uses of doors are in it", ToldEdges.WATCHED.then(x -> x.keep()).then(x -> x.go(0, 2, 0))
+        answer("the uses of doors are in it", Museums.WATCHED.then(x -> x.keep()).then(x -> x.go(0, 2, 0))
             .then(x -> x.pass(1)).then(x -> x.restore()), x -> x.door(1, 4), 0);
     }
 

@@ -31,13 +31,6 @@ final class TextsEdges extends Edges {
         };
     }
 
-    private void leavesState(String test, Acts before, Acts call) {
-        answer(test, before, x -> {
-            Told.sameState("promise 20 or 21, " + test, before.then(call), before);
-            return 0;
-        }, 0);
-    }
-
     private void type() {
         promise(20);
         says("Types a character behind the text.");
@@ -46,7 +39,7 @@ final class TextsEdges extends Edges {
             x -> x.orderAt(0, 0), 1000);
         answer("is no act", TWELVE.then(x -> x.type('1')), x -> x.count(14), 4);
         answer("is no act in a new museum", Museums.NEW.then(x -> x.type('1')), x -> x.count(14), 0);
-        leavesState("leaves the state", NIGHT, x -> x.type('1'));
+        sameState("leaves the state", NIGHT.then(x -> x.type('1')), NIGHT);
         answer("undo leaves it", NIGHT.then(x -> x.type('1')).then(x -> x.undo()), x -> x.count(15), 4);
         answer("restore leaves it", NIGHT.then(x -> x.type('1')).then(x -> x.restore()), x -> x.count(15), 4);
         answer("nextNight leaves it", TWELVE.then(x -> x.type('1')).then(x -> x.nextNight()), x -> x.count(15), 1);
@@ -74,7 +67,7 @@ final class TextsEdges extends Edges {
             .then(Museums.typed("2")).then(x -> x.readOrders(0)), x -> x.guard(0, 4) * 1000 + x.orderAt(0, 0), 1200);
         answer("is no act", NIGHT.then(x -> x.clearText()), x -> x.undo(), 3);
         answer("is no act in a new museum", Museums.NEW.then(x -> x.clearText()), x -> x.count(14), 0);
-        leavesState("leaves the state", NIGHT, x -> x.clearText());
+        sameState("leaves the state", NIGHT.then(x -> x.clearText()), NIGHT);
         says("Returns the length that it had.");
         tell("0", TWELVE, x -> x.clearText(), 0);
         answer("1", signs(1), x -> x.clearText(), 1);
@@ -85,7 +78,8 @@ final class TextsEdges extends Edges {
 
     private void readOrders() {
         promise(22);
-        says("Gives a guard the orders of the text, which stays, behind the others; all of them, or none. This is one act.");
+        says("Gives a guard the orders of the text, which stays, behind the others; all of them, or none. This is "
+            + "one act.");
         Acts three = TWELVE.then(Museums.typed("1,11+99,0+0"));
         act("three orders", three, x -> x.readOrders(0), 3);
         act("during a night", NIGHT, x -> x.readOrders(2), 2);
@@ -97,7 +91,8 @@ final class TextsEdges extends Edges {
         tell("none for another guard", three.then(x -> x.readOrders(0)), x -> x.guard(1, 4), 0);
         answer("the text stays", three.then(x -> x.readOrders(0)), x -> x.clearText(), 11);
         act("a second time", three.then(x -> x.readOrders(0)), x -> x.readOrders(0), 6);
-        refuse("none of them when one room is not there", NIGHT.then(Museums.typed(",3,4")), x -> x.readOrders(2), UNKNOWN);
+        refuse("none of them when one room is not there", NIGHT.then(Museums.typed(",3,4")),
+            x -> x.readOrders(2), UNKNOWN);
         refuse("none of them when one is too many", three.then(orders(0, 10)), x -> x.readOrders(0), FULL);
         refuse("none of them when there is a fault", three.then(x -> x.type(',')), x -> x.readOrders(0), -112);
         says("`guard`: a guard");
@@ -158,7 +153,8 @@ final class TextsEdges extends Edges {
         refuse("in the last of thirty", TWELVE.then(Museums.typed(THIRTY_ORDERS.substring(0, 58) + "12")),
             x -> x.readOrders(1), UNKNOWN);
         act("a stay is no room", TWELVE.then(Museums.typed("1+12")), x -> x.readOrders(1), 1);
-        act("a room that came later", NIGHT.then(x -> x.clearText()).then(Museums.typed("4")).then(x -> x.addRoom(0, 0)),
+        act("a room that came later", NIGHT.then(x -> x.clearText()).then(Museums.typed("4"))
+            .then(x -> x.addRoom(0, 0)),
             x -> x.readOrders(2), 2);
         refuse("a room that was undone", NIGHT.then(x -> x.clearText()).then(Museums.typed("4"))
             .then(x -> x.addRoom(0, 0)).then(x -> x.undo()), x -> x.readOrders(2), UNKNOWN);

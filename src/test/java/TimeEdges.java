@@ -26,10 +26,7 @@ final class TimeEdges extends Edges {
                 x.pass(1);
             }
         });
-        answer("30 are as 30 times one", NEW, x -> {
-            Told.sameState("promise 18, one after the other", atOnce, oneByOne);
-            return 0;
-        }, 0);
+        sameState("30 are as 30 times one", atOnce, oneByOne);
         act("several are one act", NIGHT, x -> x.pass(30), 3);
         says("`minutes`: 1 to 60");
         act("1", ROW, x -> x.pass(1), 0);
@@ -37,34 +34,6 @@ final class TimeEdges extends Edges {
         tell("1 is told", ROW.then(x -> x.pass(1)), x -> x.count(0), 1);
         tell("60 is told", ROW.then(x -> x.pass(60)), x -> x.count(0), 60);
         refuseOutside("minutes", 1, 60, NIGHT, (x, minutes) -> x.pass(minutes), BAD_VALUE);
-    }
-
-    /** Ten works in room 1, which are troubled when it is watched. */
-    private static final Acts CROWD = x -> {
-        x.addRoom(0, 0);
-        x.addDoor(0, 1, 1, -1);
-        x.openZone(0);
-        x.addGuard();
-        for (int work = 0; work < 10; work++) {
-            x.addWork(1, 1, 0);
-        }
-    };
-
-    /** So many times the guard comes and goes, and each time there are ten alarms. */
-    private static Acts visits(int times) {
-        return x -> {
-            for (int time = 0; time < times; time++) {
-                x.go(0, 1, 1);
-                x.go(0, 0, 0);
-                x.pass(3);
-            }
-        };
-    }
-
-    private static int visit(MuseumNights x) {
-        x.go(0, 1, 1);
-        x.go(0, 0, 0);
-        return x.pass(3);
     }
 
     private void passReturns() {
@@ -75,14 +44,14 @@ final class TimeEdges extends Edges {
         act("none of the minute behind", bound, x -> x.pass(59), 0);
         act("the one of the first minute", bound.then(x -> x.pass(59)), x -> x.pass(1), 1);
         act("none of the minutes before", bound.then(x -> x.pass(60)), x -> x.pass(60), 0);
-        answer("several of one minute", CROWD, TimeEdges::visit, 10);
-        answer("the last that are noted", CROWD.then(visits(3)), TimeEdges::visit, 10);
-        answer("lost ones", CROWD.then(visits(4)), TimeEdges::visit, 10);
-        answer("noted and lost ones", CROWD.then(visits(3)).then(x -> x.closeZone(0)), TimeEdges::visit, 11);
-        tell("of which one is lost", CROWD.then(visits(3)).then(x -> x.closeZone(0)).then(visits(1)),
+        answer("several of one minute", Museums.crowded(0), Museums::visit, 10);
+        answer("the last that are noted", Museums.crowded(3), Museums::visit, 10);
+        answer("lost ones", Museums.crowded(4), Museums::visit, 10);
+        answer("noted and lost ones", Museums.crowded(3).then(x -> x.closeZone(0)), Museums::visit, 11);
+        tell("of which one is lost", Museums.crowded(3).then(x -> x.closeZone(0)).then(Museums::visit),
             x -> x.count(9), 1);
-        answer("though others were cleared before", CROWD.then(x -> {
-            visits(1).on(x);
+        answer("though others were cleared before", Museums.crowded(0).then(x -> {
+            Museums.visit(x);
             x.go(0, 1, 0);
             x.pass(1);
             x.clearAlarm(0, 0);
@@ -146,7 +115,7 @@ final class TimeEdges extends Edges {
         tell("alarms that are not cleared", next, x -> x.count(8), 0);
         refuse("alarm 0", next, x -> x.alarm(0, 0), UNKNOWN);
         tell("alarms of a room", next, x -> x.room(1, 8), 0);
-        tell("lost ones", CROWD.then(visits(5)).then(x -> x.nextNight()), x -> x.count(9), 0);
+        tell("lost ones", Museums.crowded(5).then(x -> x.nextNight()), x -> x.count(9), 0);
         tell("stays", next, x -> x.count(12), 0);
         refuse("the latest stay", next, x -> x.stay(0, 0), NONE);
         tell("halts", next, x -> x.count(13), 0);
@@ -154,9 +123,9 @@ final class TimeEdges extends Edges {
         tell("halts ahead of it", OVER.then(x -> x.go(2, 2, 0)).then(x -> x.pass(20)), x -> x.count(13), 1);
         tell("halts behind it", OVER.then(x -> x.go(2, 2, 0)).then(x -> x.pass(20)).then(x -> x.nextNight()),
             x -> x.count(13), 0);
-        tell("40 alarms again", CROWD.then(visits(5)).then(x -> x.nextNight()).then(x -> {
+        tell("40 alarms again", Museums.crowded(5).then(x -> x.nextNight()).then(x -> {
             x.addWork(1, 1, 0);
-            visits(1).on(x);
+            Museums.visit(x);
         }), x -> x.count(7), 2);
         says("no room has been watched or not for any minute;");
         for (int room = 0; room <= 3; room++) {

@@ -149,7 +149,7 @@ public final class TimeTest {
         Check.due("18: watched between", x.room(1, 3), 1);
         Check.due("18: not yet again", x.pass(3), 0);
         Check.due("18: again", x.pass(1), 1);
-        Check.due("18: the bound 240", Check.passMany(x, 240 - x.count(0)), 0);
+        Check.due("18: the bound 240", Museums.passMany(x, 240 - x.count(0)), 0);
         Check.due("18: the minute behind", x.pass(1), 1);
         Check.due("18: its room", x.alarm(2, 1), 2);
         Check.due("18: its minute", x.alarm(2, 2), 240);

@@ -3,13 +3,7 @@ final class ToldEdges extends Edges {
     private static final Acts NEW = Museums.NEW;
     private static final Acts NIGHT = Museums.NIGHT;
     private static final Acts ROW = Museums.row(1);
-    /** Room 1 is watched in the minutes 1 to 3 and 11 to 19, the guard room in 5 to 9, room 2 never. */
-    static final Acts WATCHED = ROW.then(x -> {
-        x.go(0, 1, 3);
-        x.go(0, 0, 5);
-        x.go(0, 1, 0);
-        x.pass(20);
-    });
+    private static final Acts WATCHED = Museums.WATCHED;
 
     @Override
     void run() {
@@ -52,7 +46,8 @@ final class ToldEdges extends Edges {
         tell("it goes on", WATCHED, x -> x.room(1, 2), 9);
         tell("not any more", WATCHED, x -> x.room(0, 2), 0);
         tell("never", WATCHED, x -> x.room(2, 2), 0);
-        tell("a minute in which the guard came is none", ROW.then(x -> x.go(0, 1, 0)).then(x -> x.pass(1)), x -> x.room(1, 2), 0);
+        tell("a minute in which the guard came is none", ROW.then(x -> x.go(0, 1, 0)).then(x -> x.pass(1)),
+            x -> x.room(1, 2), 0);
         tell("the first minute behind it", ROW.then(x -> x.go(0, 1, 0)).then(x -> x.pass(2)), x -> x.room(1, 2), 1);
         tell("all the night", ROW.then(Museums.pass(720)), x -> x.room(0, 2), 720);
         tell("by two guards in turn", Museums.row(2).then(x -> {
@@ -65,9 +60,11 @@ final class ToldEdges extends Edges {
         tell("it goes on", WATCHED, x -> x.room(0, 3), 10);
         tell("not any more", WATCHED, x -> x.room(1, 3), 0);
         tell("all the night", ROW.then(Museums.pass(720)), x -> x.room(1, 3), 720);
-        tell("the minute in which the guard leaves", WATCHED.then(x -> x.go(0, 2, 0)).then(x -> x.pass(1)), x -> x.room(1, 3), 1);
+        tell("the minute in which the guard leaves", WATCHED.then(x -> x.go(0, 2, 0)).then(x -> x.pass(1)),
+            x -> x.room(1, 3), 1);
         tell("a room that was added this minute", WATCHED.then(x -> x.addRoom(0, 0)), x -> x.room(3, 3), 0);
-        tell("a room that was added a minute before", WATCHED.then(x -> x.addRoom(0, 0)).then(x -> x.pass(1)), x -> x.room(3, 3), 1);
+        tell("a room that was added a minute before", WATCHED.then(x -> x.addRoom(0, 0)).then(x -> x.pass(1)),
+            x -> x.room(3, 3), 1);
         says("4 for its longest gap this night (with the one that goes on),");
         tell("at first", ROW, x -> x.room(1, 4), 0);
         tell("one that is over", WATCHED, x -> x.room(1, 4), 7);
@@ -124,28 +121,13 @@ final class ToldEdges extends Edges {
             x.clearAlarm(1, 2);
             x.clearAlarm(3, 2);
         }), x -> x.room(1, 8), 0);
-        tell("lost ones are not noted", crowded(5), x -> x.room(1, 8), 40);
-        tell("nor is another one when one is cleared", crowded(5).then(x -> {
+        tell("lost ones are not noted", Museums.crowded(5), x -> x.room(1, 8), 40);
+        tell("nor is another one when one is cleared", Museums.crowded(5).then(x -> {
             x.go(0, 1, 0);
             x.pass(1);
             x.clearAlarm(0, 0);
             x.pass(1);
         }), x -> x.room(1, 8), 39);
-    }
-
-    /** So many times ten works of room 1 are troubled at once. */
-    static Acts crowded(int times) {
-        return x -> {
-            ROW.on(x);
-            for (int work = 0; work < 10; work++) {
-                x.addWork(1, 1, 0);
-            }
-            for (int time = 0; time < times; time++) {
-                x.go(0, 1, 1);
-                x.go(0, 0, 0);
-                x.pass(3);
-            }
-        };
     }
 
     private void roomErrors() {
@@ -353,7 +335,8 @@ final class ToldEdges extends Edges {
         tell("the last", twelve, x -> x.orderAt(1, 11), 1188);
         says("Returns 100 * room + stay;");
         tell("the least", NIGHT, x -> x.orderAt(1, 0), 0);
-        tell("the greatest", Museums.rooms(11).then(Museums.guards(1)).then(x -> x.go(0, 11, 99)), x -> x.orderAt(0, 0), 1199);
+        tell("the greatest", Museums.rooms(11).then(Museums.guards(1)).then(x -> x.go(0, 11, 99)),
+            x -> x.orderAt(0, 0), 1199);
         says("UNKNOWN;");
         refuseOutside("guard", 0, 2, NIGHT, (x, guard) -> x.orderAt(guard, 0), UNKNOWN);
         refuse("ahead of BAD_VALUE", NIGHT, x -> x.orderAt(3, -1), UNKNOWN);
@@ -422,7 +405,8 @@ final class ToldEdges extends Edges {
         tell("troubled", NIGHT, x -> x.work(2, 3), 1);
         tell("taken away", NIGHT, x -> x.work(3, 3), 2);
         tell("taken away when it was troubled", NIGHT.then(x -> x.takeAway(2)), x -> x.work(2, 3), 2);
-        tell("taken away and a minute passed", NIGHT.then(x -> x.takeAway(2)).then(x -> x.pass(1)), x -> x.work(2, 3), 2);
+        tell("taken away and a minute passed", NIGHT.then(x -> x.takeAway(2)).then(x -> x.pass(1)),
+            x -> x.work(2, 3), 2);
     }
 
     private void workAlarms() {
@@ -431,8 +415,8 @@ final class ToldEdges extends Edges {
         tell("one", NIGHT, x -> x.work(2, 4), 1);
         tell("two", NIGHT, x -> x.work(0, 4), 2);
         tell("none more while it is troubled", NIGHT.then(x -> x.stop(2)).then(x -> x.pass(1)), x -> x.work(0, 4), 2);
-        tell("the last that is noted", crowded(4), x -> x.work(9, 4), 4);
-        tell("a lost one", crowded(5), x -> x.work(0, 4), 5);
+        tell("the last that is noted", Museums.crowded(4), x -> x.work(9, 4), 4);
+        tell("a lost one", Museums.crowded(5), x -> x.work(0, 4), 5);
         tell("taken away", NIGHT.then(x -> x.takeAway(0)), x -> x.work(0, 4), 2);
         tell("none by other causes", ROW.then(x -> {
             x.setBound(1, 1);
@@ -441,7 +425,7 @@ final class ToldEdges extends Edges {
         }), x -> x.work(0, 4), 0);
         says("Returns the number; UNKNOWN; BAD_VALUE.");
         refuseOutside("work", 0, 3, NIGHT, (x, work) -> x.work(work, 0), UNKNOWN);
-        refuse("no work 10", crowded(0), x -> x.work(10, 0), UNKNOWN);
+        refuse("no work 10", Museums.crowded(0), x -> x.work(10, 0), UNKNOWN);
         refuseOutside("what", 0, 4, NIGHT, (x, what) -> x.work(1, what), BAD_VALUE);
         refuse("UNKNOWN ahead of BAD_VALUE, below", NIGHT, x -> x.work(-1, -1), UNKNOWN);
         refuse("UNKNOWN ahead of BAD_VALUE, above", NIGHT, x -> x.work(4, 5), UNKNOWN);
@@ -449,17 +433,11 @@ final class ToldEdges extends Edges {
 
     private void alarm() {
         promise(33);
-        Acts three = ROW.then(x -> {
-            x.setBound(2, 1);
-            x.closeZone(0);
-            x.addWork(1, 1, 0);
-            x.go(0, 1, 0);
-            x.pass(2);
-        });
+        Acts three = Museums.ALARMS;
         says("`alarm`: an alarm");
         tell("the first", three, x -> x.alarm(0, 1), 1);
         tell("the last", three, x -> x.alarm(2, 1), 1);
-        tell("the last of forty", crowded(4), x -> x.alarm(39, 2), 10);
+        tell("the last of forty", Museums.crowded(4), x -> x.alarm(39, 2), 10);
         says("`what`: 0 for its cause,");
         tell("0", three, x -> x.alarm(0, 0), 0);
         tell("1", three, x -> x.alarm(1, 0), 1);
@@ -477,13 +455,18 @@ final class ToldEdges extends Edges {
         tell("not cleared", three, x -> x.alarm(0, 3), NONE);
         tell("guard 0", three.then(x -> x.clearAlarm(0, 0)), x -> x.alarm(0, 3), 0);
         tell("not cleared beside one that is", three.then(x -> x.clearAlarm(0, 0)), x -> x.alarm(2, 3), NONE);
+        Acts again = three.then(x -> x.clearAlarm(0, 0)).then(x -> x.nextNight()).then(x -> x.addWork(2, 1, 0))
+            .then(x -> x.pass(1));
+        tell("not cleared, in place of one of the night before that was", again, x -> x.alarm(0, 3), NONE);
         says("4 for the minute in which it was cleared (NONE likewise)");
+        tell("not cleared, in place of one of the night before that was", again, x -> x.alarm(0, 4), NONE);
         tell("not cleared", three, x -> x.alarm(0, 4), NONE);
         tell("cleared", three.then(x -> x.clearAlarm(0, 0)), x -> x.alarm(0, 4), 2);
-        tell("cleared some minutes before", three.then(x -> x.clearAlarm(0, 0)).then(x -> x.pass(9)), x -> x.alarm(0, 4), 2);
+        tell("cleared some minutes before", three.then(x -> x.clearAlarm(0, 0)).then(x -> x.pass(9)),
+            x -> x.alarm(0, 4), 2);
         says("Returns the number; UNKNOWN; BAD_VALUE.");
         refuseOutside("alarm", 0, 2, three, (x, alarm) -> x.alarm(alarm, 0), UNKNOWN);
-        refuse("a lost one", crowded(5), x -> x.alarm(40, 0), UNKNOWN);
+        refuse("a lost one", Museums.crowded(5), x -> x.alarm(40, 0), UNKNOWN);
         refuseOutside("what", 0, 4, three, (x, what) -> x.alarm(1, what), BAD_VALUE);
         refuse("UNKNOWN ahead of BAD_VALUE, below", three, x -> x.alarm(-1, -1), UNKNOWN);
         refuse("UNKNOWN ahead of BAD_VALUE, above", three, x -> x.alarm(3, 5), UNKNOWN);

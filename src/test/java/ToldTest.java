@@ -274,8 +274,7 @@ public final class ToldTest {
     }
 
     /** As many stays as a night can hold: each of four guards ends one in each minute. */
-    private static void manyStays() {
-        MuseumNights x = new MuseumNights();
+    private static void fillNight(MuseumNights x) {
         x.addRoom(0, 0);
         x.addDoor(0, 1, 1, -1);
         for (int guard = 0; guard < 4; guard++) {
@@ -290,12 +289,13 @@ public final class ToldTest {
             }
             x.pass(12);
         }
+    }
+
+    private static void manyStays() {
+        MuseumNights x = new MuseumNights();
+        fillNight(x);
         Check.due("34: stays", x.count(12), 2880);
         Check.due("39: minute", x.count(0), 720);
-        for (int back = 0; back < 2880; back += 7) {
-            int minute = 719 - back / 4;
-            dueStay(x, back, 3 - back % 4, minute % 2, minute, minute);
-        }
         Check.due("34: no more", x.stay(2880, 0), Check.NONE);
         Check.due("27: uses", x.door(0, 4), 2880);
         Check.due("25: restore", x.restore(), 0);
@@ -304,6 +304,15 @@ public final class ToldTest {
         Check.due("34: all of them again", x.count(12), 2880);
         dueStay(x, 2879, 0, 0, 0, 0);
         dueStay(x, 0, 3, 1, 719, 719);
+        // each object is asked no more than 512 calls allow
+        for (int first = 0; first < 2880; first += 288) {
+            x = new MuseumNights();
+            fillNight(x);
+            for (int back = first; back < first + 288; back += 8 + back % 3) {
+                int minute = 719 - back / 4;
+                dueStay(x, back, 3 - back % 4, minute % 2, minute, minute);
+            }
+        }
     }
 
     private static void gap() {
@@ -329,7 +338,7 @@ public final class ToldTest {
         Check.due("35: until less than from", x.gap(1, 5, 4), Check.BAD_VALUE);
         Check.due("35: until 21", x.gap(1, 0, 21), Check.BAD_VALUE);
         Check.due("35: from 21", x.gap(1, 21, 21), Check.BAD_VALUE);
-        Check.passMany(x, 700);
+        Museums.passMany(x, 700);
         Check.due("35: the whole night", x.gap(2, 0, 720), 720);
         Check.due("35: behind it", x.gap(2, 0, 721), Check.BAD_VALUE);
     }
@@ -440,7 +449,7 @@ public final class ToldTest {
         Check.due("38: no act", x.count(14), 4);
         Check.due("38: as foretold", x.pass(60), 3);
         Check.due("38: none behind them", x.alarmsIn(60), 0);
-        Check.passMany(x, 601);
+        Museums.passMany(x, 601);
         Check.due("38: would be more than 720", x.alarmsIn(60), Check.NOT_POSSIBLE);
         Check.due("38: would be more, bad", x.alarmsIn(61), Check.BAD_VALUE);
         Check.due("38: just 720", x.alarmsIn(59), 0);

@@ -3,7 +3,7 @@ final class WorkedOutEdges extends Edges {
     private static final Acts NEW = Museums.NEW;
     private static final Acts NIGHT = Museums.NIGHT;
     private static final Acts ROW = Museums.row(1);
-    private static final Acts WATCHED = ToldEdges.WATCHED;
+    private static final Acts WATCHED = Museums.WATCHED;
     /** Rooms 1 to 11 one behind the other, nine minutes each; the door between 5 and 6 has the key 7. */
     private static final Acts LONG_ROW = x -> {
         for (int room = 1; room <= 11; room++) {
@@ -29,6 +29,7 @@ final class WorkedOutEdges extends Edges {
         firstDue();
         firstDueNone();
         alarmsIn();
+        alarmsInSteps();
         alarmsInErrors();
         countOfHouse();
         countOfNight();
@@ -44,8 +45,8 @@ final class WorkedOutEdges extends Edges {
 
     private void stay() {
         promise(34);
-        says("Looks back at the stays of this night that are over: a guard stood in a room from a minute on "
-            + "up to another one (this one not), in which the guard set off.");
+        says("Looks back at the stays of this night that are over: a guard stood in a room from a minute on up to "
+            + "another one (this one not), in which the guard set off.");
         dueStay("the latest", WATCHED, 0, 0, 0, 5, 10);
         dueStay("the one before", WATCHED, 1, 0, 1, 1, 4);
         dueStay("the first", WATCHED, 2, 0, 0, 0, 0);
@@ -91,7 +92,8 @@ final class WorkedOutEdges extends Edges {
         Acts halted = WATCHED.then(x -> x.go(0, 1, 0)).then(x -> x.pass(3));
         dueStay("a halt ends none", halted, 0, 0, 0, 5, 10);
         dueStay("nor does it begin one", halted.then(x -> x.go(0, 2, 0)).then(x -> x.pass(1)), 0, 0, 1, 11, 23);
-        dueStay("nor does stop", WATCHED.then(x -> x.stop(0)).then(x -> x.go(0, 2, 0)).then(x -> x.pass(1)), 0, 0, 1, 11, 20);
+        dueStay("nor does stop", WATCHED.then(x -> x.stop(0)).then(x -> x.go(0, 2, 0))
+            .then(x -> x.pass(1)), 0, 0, 1, 11, 20);
         dueStay("up to the last minute", ROW.then(Museums.pass(719)).then(x -> x.go(0, 1, 0)).then(x -> x.pass(1)),
             0, 0, 0, 0, 719);
     }
@@ -245,14 +247,28 @@ final class WorkedOutEdges extends Edges {
         tell("one door", LONG_ROW, x -> x.way(0, 1), 9);
         tell("five doors", LONG_ROW, x -> x.way(0, 5), 45);
         tell("eleven doors by a key", LONG_ROW.then(x -> x.takeKey(0, 7)), x -> x.way(0, 11), 99);
+        Acts fromItsEnd = Museums.rooms(11).then(Museums.guards(1)).then(x -> {
+            for (int room = 11; room >= 1; room--) {
+                x.addDoor(room, room - 1, 9, -1);
+            }
+        });
+        tell("eleven doors that are numbered from its end", fromItsEnd, x -> x.way(0, 11), 99);
+        tell("and back", fromItsEnd.then(x -> {
+            for (int room = 1; room <= 11; room++) {
+                x.go(0, room, 0);
+            }
+            Museums.passMany(x, 99);
+        }), x -> x.way(0, 0), 99);
         refuse("the key is in the cupboard", LONG_ROW, x -> x.way(0, 6), NONE);
         refuse("another guard has the key", LONG_ROW.then(x -> x.takeKey(0, 7)), x -> x.way(1, 6), NONE);
         refuse("another key", LONG_ROW.then(x -> x.takeKey(0, 6)), x -> x.way(0, 6), NONE);
         tell("the key 0", ROW.then(x -> x.addRoom(0, 0)).then(x -> x.addDoor(2, 3, 1, 0)).then(x -> x.takeKey(0, 0)),
             x -> x.way(0, 3), 3);
-        refuse("without the key 0", ROW.then(x -> x.addRoom(0, 0)).then(x -> x.addDoor(2, 3, 1, 0)), x -> x.way(0, 3), NONE);
+        refuse("without the key 0", ROW.then(x -> x.addRoom(0, 0)).then(x -> x.addDoor(2, 3, 1, 0)),
+            x -> x.way(0, 3), NONE);
         tell("a door the other way", LONG_ROW.then(x -> x.go(0, 1, 0)).then(x -> x.pass(9)), x -> x.way(0, 0), 9);
-        Acts around = ROW.then(x -> x.addRoom(0, 0)).then(x -> x.addDoor(0, 3, 4, -1)).then(x -> x.addDoor(3, 2, 4, -1));
+        Acts around = ROW.then(x -> x.addRoom(0, 0)).then(x -> x.addDoor(0, 3, 4, -1))
+            .then(x -> x.addDoor(3, 2, 4, -1));
         tell("two doors that take less", around.then(x -> x.addDoor(0, 2, 3, -1)), x -> x.way(0, 2), 2);
         tell("two ways that take as long", around.then(x -> x.addDoor(0, 2, 2, -1)), x -> x.way(0, 2), 2);
         tell("one door that takes less", around.then(x -> x.addDoor(2, 0, 1, -1)), x -> x.way(0, 2), 1);
@@ -261,12 +277,14 @@ final class WorkedOutEdges extends Edges {
             .then(x -> x.addDoor(3, 2, 6, -1)), x -> x.way(0, 3), 8);
         tell("a locked door that would take less", around.then(x -> x.addDoor(1, 3, 1, 5)), x -> x.way(0, 3), 4);
         tell("orders and stays do not count", ROW.then(x -> x.go(0, 1, 99)), x -> x.way(0, 2), 2);
-        tell("minutes left to stay do not count", ROW.then(x -> x.go(0, 1, 99)).then(x -> x.pass(1)), x -> x.way(0, 2), 1);
+        tell("minutes left to stay do not count", ROW.then(x -> x.go(0, 1, 99)).then(x -> x.pass(1)),
+            x -> x.way(0, 2), 1);
         tell("closed zones do not count", ROW.then(x -> x.closeZone(0)), x -> x.way(0, 2), 2);
     }
 
     private void wayWalking() {
-        says("For a guard who walks it is counted from the end of this walk on, and the minutes left of it are added.");
+        says("For a guard who walks it is counted from the end of this walk on, and the minutes left of it are "
+            + "added.");
         Acts walks = LONG_ROW.then(x -> x.go(0, 1, 50));
         tell("its first minute", walks.then(x -> x.pass(1)), x -> x.way(0, 2), 17);
         tell("its last minute", walks.then(x -> x.pass(8)), x -> x.way(0, 2), 10);
@@ -294,7 +312,8 @@ final class WorkedOutEdges extends Edges {
         refuse("room 12 of twelve", LONG_ROW, x -> x.way(0, 12), UNKNOWN);
         says("NONE if there is no way.");
         refuse("no door", ROW.then(x -> x.addRoom(0, 0)), x -> x.way(0, 3), NONE);
-        refuse("a door between two others", ROW.then(Museums.rooms(2)).then(x -> x.addDoor(3, 4, 1, -1)), x -> x.way(0, 4), NONE);
+        refuse("a door between two others", ROW.then(Museums.rooms(2)).then(x -> x.addDoor(3, 4, 1, -1)),
+            x -> x.way(0, 4), NONE);
         refuse("a door that was undone", ROW.then(x -> x.addRoom(0, 0)).then(x -> x.addDoor(0, 3, 1, -1))
             .then(x -> x.undo()), x -> x.way(0, 3), NONE);
         refuse("a key that was brought back", LONG_ROW.then(x -> x.takeKey(0, 7)).then(x -> x.bringKey(0, 7)),
@@ -314,7 +333,8 @@ final class WorkedOutEdges extends Edges {
         tell("one that is watched now runs out, too", two.then(x -> x.setBound(2, 0)).then(x -> x.go(0, 1, 0))
             .then(x -> x.pass(9)), x -> x.firstDue(), 1);
         says("Returns the room with a bound of which the fewest minutes are left (bound + 1 minus the minutes in a "
-            + "row for which it has not been watched; those where this is 0 or less are left out), the lowest one of several;");
+            + "row for which it has not been watched; those where this is 0 or less are left out), the lowest one "
+            + "of several;");
         tell("the lowest of two", two, x -> x.firstDue(), 1);
         tell("the second has one less", two.then(x -> x.setBound(2, 8)), x -> x.firstDue(), 2);
         tell("the second has one more", two.then(x -> x.setBound(2, 10)), x -> x.firstDue(), 1);
@@ -325,7 +345,8 @@ final class WorkedOutEdges extends Edges {
         tell("one minute is left", later.then(x -> x.pass(9)), x -> x.firstDue(), 1);
         tell("0 are left", later.then(x -> x.pass(10)), x -> x.firstDue(), 2);
         tell("less than 0 are left", later.then(x -> x.pass(11)), x -> x.firstDue(), 2);
-        tell("less than 0 by a bound that was set", later.then(x -> x.pass(5)).then(x -> x.setBound(1, 2)), x -> x.firstDue(), 2);
+        tell("less than 0 by a bound that was set", later.then(x -> x.pass(5)).then(x -> x.setBound(1, 2)),
+            x -> x.firstDue(), 2);
         tell("0 by a bound that was set", later.then(x -> x.pass(5)).then(x -> x.setBound(1, 4)), x -> x.firstDue(), 2);
         tell("1 by a bound that was set", later.then(x -> x.pass(5)).then(x -> x.setBound(1, 5)), x -> x.firstDue(), 1);
         Acts watched = two.then(x -> x.go(0, 1, 5)).then(x -> x.pass(5));
@@ -342,7 +363,8 @@ final class WorkedOutEdges extends Edges {
         refuse("no room with a bound", Museums.rooms(11), x -> x.firstDue(), NONE);
         refuse("all are left out", NEW.then(x -> x.addRoom(0, 1)).then(x -> x.pass(2)), x -> x.firstDue(), NONE);
         tell("not yet", NEW.then(x -> x.addRoom(0, 1)).then(x -> x.pass(1)), x -> x.firstDue(), 1);
-        tell("the longest bound, not yet", NEW.then(x -> x.addRoom(0, 240)).then(Museums.pass(240)), x -> x.firstDue(), 1);
+        tell("the longest bound, not yet", NEW.then(x -> x.addRoom(0, 240)).then(Museums.pass(240)),
+            x -> x.firstDue(), 1);
         refuse("the longest bound", NEW.then(x -> x.addRoom(0, 240)).then(Museums.pass(241)), x -> x.firstDue(), NONE);
         tell("in the next night again", NEW.then(x -> x.addRoom(0, 1)).then(x -> x.pass(2)).then(x -> x.nextNight()),
             x -> x.firstDue(), 1);
@@ -350,14 +372,16 @@ final class WorkedOutEdges extends Edges {
 
     private void alarmsIn() {
         promise(38);
-        says("Tells how many alarms there would be (lost ones, too) if minutes passed now, and nothing else happened.");
+        says("Tells how many alarms there would be (lost ones, too) if minutes passed now, and nothing else "
+            + "happened.");
         tell("during a night, one", NIGHT, x -> x.alarmsIn(1), 1);
         tell("during a night, three", NIGHT, x -> x.alarmsIn(30), 3);
         answer("as many as there are then", NIGHT, x -> x.alarmsIn(60) - x.pass(60), 0);
         tell("a second time", NIGHT.then(x -> x.alarmsIn(30)), x -> x.alarmsIn(30), 3);
         tell("those that there were do not count", NIGHT.then(x -> x.pass(30)), x -> x.alarmsIn(1), 0);
-        tell("lost ones", ToldEdges.crowded(4).then(x -> x.go(0, 1, 0)), x -> x.alarmsIn(2), 10);
-        tell("noted and lost ones", ToldEdges.crowded(3).then(x -> x.closeZone(0)).then(x -> x.go(0, 1, 0)), x -> x.alarmsIn(2), 11);
+        tell("lost ones", Museums.crowded(4).then(x -> x.go(0, 1, 0)), x -> x.alarmsIn(2), 10);
+        tell("noted and lost ones", Museums.crowded(3).then(x -> x.closeZone(0)).then(x -> x.go(0, 1, 0)),
+            x -> x.alarmsIn(2), 11);
         tell("none is noted by it", NIGHT.then(x -> x.alarmsIn(30)), x -> x.count(7), 4);
         tell("no minute passes", NIGHT.then(x -> x.alarmsIn(30)), x -> x.count(0), 7);
         says("`minutes`: 1 to 60");
@@ -366,6 +390,44 @@ final class WorkedOutEdges extends Edges {
         tell("1 too few", bound.then(x -> x.pass(58)), x -> x.alarmsIn(1), 0);
         tell("60", bound, x -> x.alarmsIn(60), 1);
         tell("59 are too few", bound, x -> x.alarmsIn(59), 0);
+    }
+
+    /** What is foretold goes by the same steps as the minutes that pass. */
+    private void alarmsInSteps() {
+        says("Tells how many alarms there would be (lost ones, too) if minutes passed now, and nothing else "
+            + "happened.");
+        Acts closed = ROW.then(x -> {
+            x.closeZone(1);
+            x.addDoor(2, 0, 4, 7);
+            x.go(0, 1, 2);
+            x.go(0, 0, 0);
+            x.go(0, 2, 0);
+        });
+        refuse("the guard has no key: no arrival, so no stay there", closed.then(x -> x.pass(60)),
+            x -> x.stay(2, 0), NONE);
+        tell("no arrival without the key", closed, x -> x.alarmsIn(60), 0);
+        Acts keyed = closed.then(x -> x.takeKey(0, 7));
+        tell("the minute ahead of the arrival", keyed, x -> x.alarmsIn(7), 0);
+        tell("the minute of the arrival", keyed, x -> x.alarmsIn(8), 1);
+        tell("while walking", keyed.then(x -> x.pass(7)), x -> x.alarmsIn(1), 1);
+        tell("while staying", keyed.then(x -> x.pass(2)), x -> x.alarmsIn(5), 0);
+        tell("while staying, a minute later", keyed.then(x -> x.pass(2)), x -> x.alarmsIn(6), 1);
+        Acts visited = ROW.then(x -> {
+            x.setBound(1, 3);
+            x.go(0, 1, 2);
+            x.go(0, 0, 0);
+        });
+        tell("the bound of a room that is visited", visited, x -> x.alarmsIn(6), 0);
+        tell("and left", visited, x -> x.alarmsIn(7), 1);
+        Acts works = ROW.then(x -> {
+            x.addWork(1, 1, 1);
+            x.addWork(2, 2, 3);
+            x.addWork(0, 1, 0);
+            x.go(0, 1, 2);
+            x.go(0, 2, 0);
+        });
+        tellRow("works, by minutes", works, (x, minutes) -> x.alarmsIn(minutes), BAD_VALUE, 1, 1, 2, 4, 4, 4);
+        tell("one of a work that was taken away", works.then(x -> x.takeAway(2)), x -> x.alarmsIn(4), 2);
     }
 
     private void alarmsInErrors() {
@@ -391,7 +453,8 @@ final class WorkedOutEdges extends Edges {
         says("1 for the nights that are over,");
         tell("none", NIGHT, x -> x.count(1), 0);
         tell("two", ROW.then(x -> x.nextNight()).then(x -> x.nextNight()), x -> x.count(1), 2);
-        tell("one is undone", ROW.then(x -> x.nextNight()).then(x -> x.nextNight()).then(x -> x.undo()), x -> x.count(1), 1);
+        tell("one is undone", ROW.then(x -> x.nextNight()).then(x -> x.nextNight()).then(x -> x.undo()),
+            x -> x.count(1), 1);
         says("2 for the number of rooms,");
         tell("the guard room alone", NEW, x -> x.count(2), 1);
         tell("twelve", Museums.rooms(11), x -> x.count(2), 12);
@@ -423,25 +486,25 @@ final class WorkedOutEdges extends Edges {
         says("5 for works this night,");
         tell("none", ROW, x -> x.count(5), 0);
         tell("four, with the one taken away", NIGHT, x -> x.count(5), 4);
-        tell("ten", ToldEdges.crowded(0), x -> x.count(5), 10);
-        tell("none in the next night", ToldEdges.crowded(0).then(x -> x.nextNight()), x -> x.count(5), 0);
+        tell("ten", Museums.crowded(0), x -> x.count(5), 10);
+        tell("none in the next night", Museums.crowded(0).then(x -> x.nextNight()), x -> x.count(5), 0);
         says("6 for those that are troubled,");
-        tell("none", ToldEdges.crowded(0), x -> x.count(6), 0);
+        tell("none", Museums.crowded(0), x -> x.count(6), 0);
         tell("two", NIGHT, x -> x.count(6), 2);
-        tell("all ten", ToldEdges.crowded(0).then(x -> x.go(0, 1, 0)).then(x -> x.pass(2)), x -> x.count(6), 10);
+        tell("all ten", Museums.crowded(0).then(x -> x.go(0, 1, 0)).then(x -> x.pass(2)), x -> x.count(6), 10);
         tell("one taken away is not troubled", NIGHT.then(x -> x.takeAway(2)), x -> x.count(6), 1);
         says("7 for alarms that are noted,");
         tell("none", ROW, x -> x.count(7), 0);
         tell("four, with the one that is cleared", NIGHT, x -> x.count(7), 4);
-        tell("forty", ToldEdges.crowded(4), x -> x.count(7), 40);
-        tell("no more than forty", ToldEdges.crowded(5), x -> x.count(7), 40);
+        tell("forty", Museums.crowded(4), x -> x.count(7), 40);
+        tell("no more than forty", Museums.crowded(5), x -> x.count(7), 40);
         says("8 for those of them that are not cleared,");
         tell("none", ROW, x -> x.count(8), 0);
         tell("three", NIGHT, x -> x.count(8), 3);
-        tell("forty, without the lost ones", ToldEdges.crowded(5), x -> x.count(8), 40);
+        tell("forty, without the lost ones", Museums.crowded(5), x -> x.count(8), 40);
         says("9 for alarms that were lost,");
-        tell("none of forty", ToldEdges.crowded(4), x -> x.count(9), 0);
-        tell("ten of fifty", ToldEdges.crowded(5), x -> x.count(9), 10);
+        tell("none of forty", Museums.crowded(4), x -> x.count(9), 0);
+        tell("ten of fifty", Museums.crowded(5), x -> x.count(9), 10);
         says("12 for stays that are over,");
         tell("none", ROW.then(x -> x.pass(60)), x -> x.count(12), 0);
         tell("three", WATCHED, x -> x.count(12), 3);

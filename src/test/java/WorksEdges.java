@@ -53,6 +53,25 @@ final class WorksEdges extends Edges {
         says("Adds a work. This is an act.");
         act("during a night", NIGHT, x -> x.addWork(1, 2, 7), 4);
         tellRow("the work", NIGHT.then(x -> x.addWork(1, 2, 7)), (x, what) -> x.work(4, what), 1, 2, 7, 0, 0);
+        Acts gone = ROW.then(x -> {
+            x.keep();
+            x.addWork(2, 1, 0);
+            x.pass(1);
+            x.restore();
+        });
+        tellRow("the work in place of one that is not there any more", gone.then(x -> x.addWork(1, 2, 7)),
+            (x, what) -> x.work(0, what), 1, 2, 7, 0, 0);
+        tellRow("the work in place of one of the night before", NIGHT.then(x -> x.undo()).then(x -> {
+            x.pass(30);
+            x.bringKey(1, 0);
+            x.go(0, 1, 0);
+            x.go(0, 0, 0);
+            x.pass(9);
+            x.bringKey(0, 3);
+            x.bringKey(0, 5);
+            x.nextNight();
+            x.addWork(1, 2, 7);
+        }), (x, what) -> x.work(0, what), 1, 2, 7, 0, 0);
         says("`kind`: 0 to 2");
         act("0", ROW, x -> x.addWork(0, 1, 7), 0);
         act("2", ROW, x -> x.addWork(2, 1, 7), 0);
@@ -150,7 +169,8 @@ final class WorksEdges extends Edges {
         refuse("no room, ahead of NOT_POSSIBLE", away, x -> x.moveWork(0, -1), UNKNOWN);
         refuse("no work, ahead of a guard who is elsewhere", NIGHT, x -> x.moveWork(4, 1), UNKNOWN);
         refuse("a work of the night before", GUARDED.then(x -> x.nextNight()), x -> x.moveWork(0, 2), UNKNOWN);
-        says("NOT_POSSIBLE if it is taken away, no guard stands in its room, or there is no door between both rooms.");
+        says("NOT_POSSIBLE if it is taken away, no guard stands in its room, or there is no door between both "
+            + "rooms.");
         refuse("taken away", away, x -> x.moveWork(0, 2), NOT_POSSIBLE);
         refuse("no guard", GUARDED.then(x -> x.go(0, 0, 0)).then(x -> x.pass(1)), x -> x.moveWork(0, 2), NOT_POSSIBLE);
         refuse("a guard in the other room", GUARDED.then(works(1)).then(x -> x.moveWork(1, 2)),
@@ -252,7 +272,8 @@ final class WorksEdges extends Edges {
         says("NONE if it is cleared already.");
         refuse("by the same guard", cleared, x -> x.clearAlarm(0, 1), NONE);
         refuse("by the same guard later", cleared.then(x -> x.pass(3)), x -> x.clearAlarm(0, 1), NONE);
-        refuse("by another guard", cleared.then(x -> x.go(0, 1, 0)).then(x -> x.pass(1)), x -> x.clearAlarm(0, 0), NONE);
+        refuse("by another guard", cleared.then(x -> x.go(0, 1, 0)).then(x -> x.pass(1)),
+            x -> x.clearAlarm(0, 0), NONE);
         act("undone", cleared.then(x -> x.undo()), x -> x.clearAlarm(0, 1), 7);
     }
 }
